@@ -83,6 +83,15 @@ public final class JourneyTest {
         x.record(0, 0, 2, 0, 0, 100, -1);
         x.record(0, 0, 2, 1, 0, 100, -1);
         DUE.is("plan: they have met", x.plan(999, 0), 8);
+        EachLater all = observers(4);
+        all.journey(0, 1, 1);
+        DUE.is("plan: the only one", all.plan(1, 0), 1);
+        all.journey(1, 2, 2);
+        all.journey(2, 3, 3);
+        DUE.is("plan: all", all.plan(6, 0), 7);
+        DUE.is("plan: all, tied", all.plan(6, 1), 6);
+        DUE.is("plan: all, weeks", all.plan(6, 2), 6);
+        DUE.is("plan: all but the last", all.plan(5, 0), 3);
         DUE.is("plan: with those who have met", x.plan(999, 1), 2);
     }
 

@@ -87,6 +87,13 @@ public final class LawTest {
         fails("lean  ", 6, 0);
         fails("leen 1", 0, 0);
         fails("leanx 1", 0, 0);
+        fails("leana 1", 0, 0);
+        fails("leanz 1", 0, 0);
+        fails("mean 1", 0, 0);
+        fails("lean` 1", 4, 0);
+        fails("lean{ 1", 4, 0);
+        fails("lean /1", 5, 0);
+        fails("lean :1", 5, 0);
         fails("Lean 1", 0, 0);
         fails("5", 0, 0);
         fails("lean -5", 5, 0);
@@ -254,6 +261,8 @@ public final class LawTest {
         given("lean 5 if not 1 = 2 and 1 = 2", 0);
         given("lean 5 if not [1 = 2 and 1 = 2]", 5);
         given("lean 5 if not not 1 = 1", 5);
+        given("lean 5 if not 1 = 1", 0);
+        given("lean 5 if not [1 = 1 or 1 = 2]", 0);
         given("lean 5 if not 1 = 2 or 1 = 1 and 1 = 2", 5);
         given("lean 5 if not [1 = 1] or 1 = 1", 5);
         given("lean 5 if [[1 = 2] or [1 = 1]] and not [not [thread = 4]]", 5);

@@ -171,5 +171,10 @@ public final class LeanTest {
         x.record(0, 0, 1, 0, 3, 80, 70);
         x.record(0, 0, 2, 0, 3, 90, 70);
         DUE.is("finest: without any scatter, feigned too", x.finest(0), 3);
+        x.clock(1);
+        x.strike(4);
+        x.record(0, 0, 1, 0, 0, 89, -1);
+        DUE.is("finest: the first way", x.finest(1), 0);
+        DUE.is("finest: as known before", x.finest(0), 3);
     }
 }

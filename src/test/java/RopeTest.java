@@ -76,6 +76,13 @@ public final class RopeTest {
         DUE.is("two: width the other way", x.two(1, 0, 0, 3), 1167);
         DUE.is("two: apart, downwards", x.two(1, 0, 0, 1), 666);
         DUE.is("two: apart, downwards, other way", x.two(0, 1, 0, 1), -667);
+        EachLater y = sky(2, 2, 80);
+        meet(y, 79, 0, 0, 100, 1, 100);
+        meet(y, 79, 1, 0, 100, 1, 100);
+        meet(y, 78, 0, 0, 100, 1, 101);
+        DUE.is("two: on the last night", y.two(0, 1, 0, 0), 3);
+        DUE.is("two: together by how many, downwards", y.two(0, 1, 0, 1), -334);
+        DUE.is("two: the same the other way", y.two(1, 0, 0, 1), 333);
     }
 
     private static void rope() {
@@ -220,6 +227,15 @@ public final class RopeTest {
         DUE.is("longitude: himself", x.longitude(0, 1, 1, 1), 2);
         DUE.is("longitude: with himself", x.longitude(0, 1, 1, 0), (100000 + 98500) / 2);
         DUE.is("longitude: a house without nights", x.longitude(0, 2, 1, 1), 0);
+        EachLater y = sky(1, 1, 1);
+        y.night(1, 0);
+        y.record(0, 0, 4, 0, 0, 0, -1);
+        y.record(0, 0, 4, 0, 0, 0, -1);
+        y.record(0, 0, 4, 0, 0, 1, -1);
+        y.record(1, 0, 2, 0, 0, 0, -1);
+        // -20, -20, -19: their mean is -19666 thousandths and two thirds, -19667 downwards
+        DUE.is("longitude: each mean downwards", y.longitude(0, 1, 0, 0), 19667);
+        DUE.is("longitude: each mean downwards, other way", y.longitude(1, 0, 0, 0), -19667);
         DUE.is("longitude: as known before", x.longitude(0, 1, 0, 1), 0);
         int[][] wrong = {{0, 0, 1, 0}, {4, 0, 1, 0}, {0, 4, 1, 0}, {-1, 0, 1, 0}, {0, -1, 1, 0}, {0, 1, -1, 0},
             {0, 1, 10000, 0}, {0, 1, 1, 2}, {0, 1, 1, -1}};
@@ -251,6 +267,18 @@ public final class RopeTest {
         meet(x, 62, 0, 0, 100, 1, 99);
         DUE.is("said: of 61, ways", x.said(0, 1, 0, 0), -2);
         DUE.is("said: of 61, all", x.said(0, 1, 0, 1), -2);
+        EachLater y = sky(2, 1, 1);
+        for (int i = 0; i < 37; i++) {
+            y.record(0, 0, 2, 0, 0, i < 26 ? 1 : 0, -1);
+        }
+        for (int i = 0; i < 27; i++) {
+            y.record(0, 0, 2, 1, 0, i < 19 ? 1 : 0, -1);
+        }
+        // 19 / 27 - 26 / 37 is 1 / 999: one thousandth above, two below
+        DUE.is("said: one thousandth", y.two(1, 0, 0, 1), 1);
+        DUE.is("said: one thousandth the other way", y.two(0, 1, 0, 1), -2);
+        DUE.is("said: above 0", y.said(1, 0, 0, 0), 1);
+        DUE.is("said: below 0", y.said(0, 1, 0, 0), 2);
         int[][] wrong = {{0, 0, 0, 0}, {3, 0, 0, 0}, {0, 3, 0, 0}, {-1, 0, 0, 0}, {0, -1, 0, 0}, {0, 1, -1, 0},
             {0, 1, 10000, 0}, {0, 1, 0, 2}, {0, 1, 0, -1}};
         for (int[] w : wrong) {

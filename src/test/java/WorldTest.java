@@ -87,6 +87,18 @@ public final class WorldTest {
         DUE.is("later: -1 thousandth is -1 tenth", x.later(0, 1, 0, 0, 1), 1);
         x.leans(0, 2);
         DUE.is("later: both", x.later(0, 1, 0, 0, 1), 0);
+        EachLater full = new EachLater();
+        full.observer(0);
+        full.observer(0);
+        full.star(0, 10, 0);
+        full.night(0, 0);
+        for (int i = 0; i < 400; i++) {
+            full.record(0, 0, 2, i < 399 ? 0 : 1, 0, 100, -1);
+        }
+        Texts.law(full, "lean 1000");
+        full.leans(1, 0);
+        DUE.is("later: the last record, too", full.later(1, 0, 7, 0, 50), 50);
+        DUE.is("later: of unlike numbers", full.later(0, 1, 7, 0, 50), 0);
     }
 
     private static void mark() {
