@@ -79,6 +79,7 @@ public final class EachLater {
     private int tapeBytes = 0;
     private final Law[] laws = new Law[MAX_LAWS];
     private int lawsMade = 0;
+    private final long[] lefts = new long[MAX_LAWS];
     private final Reader reader = new Reader();
     private final Scale scale = new Scale();
     private final Cells cells = new Cells();
@@ -294,12 +295,11 @@ public final class EachLater {
         if (!these || !isWithin(what, 0, 1)) {
             return NO_ANSWER;
         }
-        int leastLaw = leastLeft(observer, known);
+        int least = leastLeft(observer, known);
         if (what == 0) {
-            return leastLaw;
+            return least;
         }
-        Law least = lawOf(leastLaw);
-        return least == null ? 0 : stillBits(observer, known, leftBy(least, observer, known) / 100 * (100 + p));
+        return least == NONE ? 0 : stillBits(lefts[least] / 100 * (100 + p));
     }
 
     public long scatter(int way, int known) {
@@ -569,23 +569,20 @@ public final class EachLater {
 
     private int leastLeft(int observer, int known) {
         int chosen = NONE;
-        long least = 0;
         for (int i = 0; i < lawsMade; i++) {
             Law law = lawOf(i);
-            long left = law == null ? 0 : leftBy(law, observer, known);
-            if (chosen == NONE || left < least) {
+            lefts[i] = law == null ? 0 : leftBy(law, observer, known);
+            if (chosen == NONE || lefts[i] < lefts[chosen]) {
                 chosen = i;
-                least = left;
             }
         }
         return chosen;
     }
 
-    private int stillBits(int observer, int known, long most) {
+    private int stillBits(long most) {
         int bits = 0;
         for (int i = 0; i < lawsMade; i++) {
-            Law law = lawOf(i);
-            if (law != null && leftBy(law, observer, known) <= most) {
+            if (lefts[i] <= most) {
                 bits |= 1 << i;
             }
         }
@@ -1632,16 +1629,16 @@ public final class EachLater {
         }
     }
 
-    /** Who is TIED to whom: all that are tied bear the same name. */
+    /** Who is TIED to whom: for each OBSERVER all that he is tied to, himself too, as bits. */
     private static final class Bonds {
         private int observers = 0;
         private final int[] met = new int[MAX_OBSERVERS];
-        private final int[] names = new int[MAX_OBSERVERS];
+        private final int[] fellows = new int[MAX_OBSERVERS];
 
         void begin(Meetings meetings, int size) {
             observers = Math.max(0, Math.min(size, MAX_OBSERVERS));
             for (int i = 0; i < observers; i++) {
-                names[i] = i;
+                fellows[i] = 1 << i;
             }
             for (int a = 0; a < observers; a++) {
                 for (int b = a + 1; b < observers; b++) {
@@ -1650,31 +1647,27 @@ public final class EachLater {
                     }
                 }
             }
-            System.arraycopy(names, 0, met, 0, observers);
+            System.arraycopy(fellows, 0, met, 0, observers);
+        }
+
+        private boolean isApart(int a, int b) {
+            return isWithin(a, 0, observers - 1) && isWithin(b, 0, observers - 1) && fellows[a] != fellows[b];
         }
 
         private void bind(int a, int b) {
-            if (!isWithin(a, 0, observers - 1) || !isWithin(b, 0, observers - 1)) {
+            if (!isApart(a, b)) {
                 return;
             }
-            int old = names[b];
+            int all = fellows[a] | fellows[b];
             for (int i = 0; i < observers; i++) {
-                if (names[i] == old) {
-                    names[i] = names[a];
+                if ((all >> i & 1) == 1) {
+                    fellows[i] = all;
                 }
             }
         }
 
-        private int fellows(int a) {
-            int found = 0;
-            for (int i = 0; i < observers; i++) {
-                found += names[i] == names[a] ? 1 : 0;
-            }
-            return found;
-        }
-
         int pairsWith(Table journeys, int set) {
-            System.arraycopy(met, 0, names, 0, observers);
+            System.arraycopy(met, 0, fellows, 0, observers);
             for (int i = 0; i < journeys.size; i++) {
                 if ((set >> i & 1) == 1) {
                     bind(journeys.at(i, ONE), journeys.at(i, OTHER));
@@ -1682,15 +1675,14 @@ public final class EachLater {
             }
             int ends = 0;
             for (int i = 0; i < observers; i++) {
-                ends += fellows(i) - 1;
+                ends += Integer.bitCount(fellows[i]) - 1;
             }
             return ends / 2;
         }
 
         /** How many more pairs would be TIED with these two brought together: 0 if they are TIED. */
         int gain(int a, int b) {
-            boolean there = isWithin(a, 0, observers - 1) && isWithin(b, 0, observers - 1);
-            return !there || names[a] == names[b] ? 0 : fellows(a) * fellows(b);
+            return isApart(a, b) ? Integer.bitCount(fellows[a]) * Integer.bitCount(fellows[b]) : 0;
         }
     }
 
