@@ -1359,6 +1359,8 @@ public final class EachLater {
         private final int[] way = new int[MAX_RECORDS];
         private final int[] cellOf = new int[MAX_RECORDS];
         private final int[] records = new int[MAX_RECORDS * MAX_OBSERVERS];
+        // The THREADS at which it was seen, as bits.
+        private final int[] threads = new int[MAX_RECORDS * MAX_OBSERVERS];
         private final int[] reduced = new int[MAX_RECORDS * MAX_OBSERVERS];
         private final long[] squares = new long[MAX_RECORDS * MAX_OBSERVERS];
 
@@ -1390,6 +1392,7 @@ public final class EachLater {
             cellOf[record] = cell;
             long number = book.reduced(record);
             records[place]++;
+            threads[place] |= 1 << book.records.at(record, THREAD);
             reduced[place] += (int) number;
             squares[place] += number * number;
         }
@@ -1418,6 +1421,7 @@ public final class EachLater {
             way[cell] = inWay;
             for (int i = cell * MAX_OBSERVERS; i < (cell + 1) * MAX_OBSERVERS; i++) {
                 records[i] = 0;
+                threads[i] = 0;
                 reduced[i] = 0;
                 squares[i] = 0;
             }
@@ -1473,8 +1477,8 @@ public final class EachLater {
             long together = 0;
             long free = 0;
             for (int i = 0; i < size * MAX_OBSERVERS; i++) {
-                long n = records[i];
-                if (n >= 2 && way[i / MAX_OBSERVERS] == inWay) {
+                if (Integer.bitCount(threads[i]) >= 2 && way[i / MAX_OBSERVERS] == inWay) {
+                    long n = Math.max(1, records[i]);
                     long spread = n * squares[i] - (long) reduced[i] * reduced[i];
                     together += Math.floorDiv(1000 * spread, n);
                     free += n - 1;

@@ -8,6 +8,7 @@ public final class LeanTest {
         best();
         still();
         scatter();
+        scatterOfOneThread();
         finest();
         DUE.close("LeanTest");
     }
@@ -152,6 +153,29 @@ public final class LeanTest {
         DUE.is("scatter: way above 4", x.scatter(5, 0), -1);
         DUE.is("scatter: known below 0", x.scatter(0, -1), -1);
         DUE.is("scatter: known too late", x.scatter(0, 10000), -1);
+    }
+
+    private static void scatterOfOneThread() {
+        EachLater x = threads();
+        x.record(0, 0, 2, 0, 0, 100, -1);
+        x.record(0, 0, 2, 0, 0, 104, -1);
+        DUE.is("scatter: two records at one thread", x.scatter(0, 0), -2);
+        DUE.is("finest: two records at one thread", x.finest(0), -2);
+        x.record(0, 0, 3, 1, 0, 110, -1);
+        x.record(1, 0, 3, 0, 0, 110, -1);
+        DUE.is("scatter: another thread of another man or night", x.scatter(0, 0), -2);
+        x.record(0, 0, 0, 0, 0, 80, -1);
+        // 100, 104, 100: 1000 * (3 * 30816 - 92416) / 3 = 10666, by 2: all records at these threads count
+        DUE.is("scatter: three records at two threads", x.scatter(0, 0), 10666 / 2);
+        x.record(1, 0, 3, 0, 0, 190, -1);
+        DUE.is("scatter: one thread beside two", x.scatter(0, 0), 10666 / 2);
+        x.clock(1);
+        x.strike(4);
+        DUE.is("scatter: the second thread struck", x.scatter(0, 1), -2);
+        x.record(0, 0, 4, 0, 0, 121, -1);
+        // 100, 104, 101: 1000 * (3 * 31017 - 93025) / 3 = 8666, by 2
+        DUE.is("scatter: the outermost thread", x.scatter(0, 1), 8666 / 2);
+        DUE.is("scatter: one thread as known before", x.scatter(0, 0), 10666 / 2);
     }
 
     private static void finest() {

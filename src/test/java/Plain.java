@@ -454,7 +454,7 @@ final class Plain {
             for (int st = 0; st < s.stars.size(); st++) {
                 for (int o = 0; o < s.born.size(); o++) {
                     List<Rec> seen = seenRecs(o, n, st, w, known);
-                    if (seen.size() < 2) {
+                    if (seen.stream().mapToInt(r -> r.thread).distinct().count() < 2) {
                         continue;
                     }
                     BigInteger many = big(seen.size());
