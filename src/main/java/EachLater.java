@@ -392,7 +392,6 @@ public final class EachLater {
     public int next() {
         measure(book.now);
         bonds.begin(meetings, book.observers.size);
-        bonds.pairsWith(book.journeys, 0);
         int chosen = NO_ANSWER;
         int most = 0;
         for (int a = 0; a < book.observers.size; a++) {

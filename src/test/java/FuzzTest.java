@@ -75,11 +75,11 @@ public final class FuzzTest {
     }
 
     private int anObserver() {
-        return of(x.count(1));
+        return of(y.count(1));
     }
 
     private int aWeek() {
-        return draw.nextInt(3) > 0 ? of(x.count(0) + 2) : x.count(0);
+        return draw.nextInt(3) > 0 ? of(y.count(0) + 2) : y.count(0);
     }
 
     private void same(String call, long got, long want, int... numbers) {
@@ -116,7 +116,7 @@ public final class FuzzTest {
         int b;
         switch (which) {
             case 1:
-                a = of(20) == 0 ? of(10001) : x.count(0) + of(30);
+                a = of(20) == 0 ? of(10001) : y.count(0) + of(30);
                 same("clock", one(x.clock(a)), y.clock(a), a);
                 break;
             case 2:
@@ -131,20 +131,20 @@ public final class FuzzTest {
                 break;
             case 4:
                 a = of(4);
-                b = draw.nextBoolean() ? x.count(0) : of(x.count(0) + 1);
+                b = draw.nextBoolean() ? y.count(0) : of(y.count(0) + 1);
                 same("night", x.night(a, b), y.night(a, b), a, b);
                 break;
             case 5:
                 record();
                 break;
             case 6:
-                a = of(x.count(4));
+                a = of(y.count(4));
                 same("strike", one(x.strike(a)), y.strike(a), a);
                 break;
             default:
                 int o = anObserver();
-                int n = of(x.count(3));
-                int s = of(x.count(2));
+                int n = of(y.count(3));
+                int s = of(y.count(2));
                 int w = of(5);
                 int k = aWeek();
                 a = of(2);
@@ -154,8 +154,8 @@ public final class FuzzTest {
     }
 
     private void record() {
-        int n = of(x.count(3));
-        int s = of(x.count(2));
+        int n = of(y.count(3));
+        int s = of(y.count(2));
         int th = of(5);
         int o = anObserver();
         int w = of(draw.nextBoolean() ? 5 : 2);
@@ -173,7 +173,7 @@ public final class FuzzTest {
                 same("feed", x.feed(f[0], f[1], f[2], f[3], f[4]), y.feed(f), f);
                 break;
             case 9:
-                a = of(x.count(7) + 2);
+                a = of(y.count(7) + 2);
                 same("end", x.end(a), y.end(a), a);
                 break;
             case 10:
@@ -181,14 +181,18 @@ public final class FuzzTest {
                 law(LawTexts.draw(draw));
                 break;
             default:
-                a = of(x.count(5));
-                int r = of(x.count(4));
+                a = of(y.count(5));
+                int r = of(y.count(4));
                 same("gives", x.gives(a, r), y.gives(a, r), a, r);
                 break;
         }
     }
 
     private void law(String text) {
+        // a text of 400 bytes takes twenty feeds and four calls more, and behind the 512th nothing is promised
+        if (calls + 24 > CALLS) {
+            return;
+        }
         if (draw.nextInt(5) > 0) {
             same("end", x.end(0), y.end(0), 0);
             for (int from = 0; from < text.length(); from += 20) {
@@ -229,10 +233,10 @@ public final class FuzzTest {
         int o = anObserver();
         int k = aWeek();
         int w = of(2);
-        int l = of(x.count(5));
+        int l = of(y.count(5));
         switch (which) {
             case 17:
-                int year = of(x.count(0) / 52 + 3) - 1;
+                int year = of(y.count(0) / 52 + 3) - 1;
                 w = of(3);
                 same("own", x.own(o, year, k, w), y.own(o, year, k, w), o, year, k, w);
                 break;
@@ -251,8 +255,8 @@ public final class FuzzTest {
                 same("finest", x.finest(k), y.finest(k), k);
                 break;
             case 22:
-                int n = of(x.count(3));
-                int s = of(x.count(2));
+                int n = of(y.count(3));
+                int s = of(y.count(2));
                 int way = of(5);
                 int z = anObserver();
                 same("moved", x.moved(o, n, s, way, z, k, w), y.moved(o, n, s, way, z, k, w), o, n, s, way, z, k, w);
@@ -275,7 +279,7 @@ public final class FuzzTest {
                 same("journey", x.journey(a, b, weeks), y.journey(a, b, weeks), a, b, weeks);
                 break;
             case 25:
-                int set = of(1 << x.count(6));
+                int set = of(1 << y.count(6));
                 same("tied", x.tied(set), y.tied(set), set);
                 break;
             case 26:
@@ -290,7 +294,7 @@ public final class FuzzTest {
                 same("said", x.said(a, b, k, w), y.said(a, b, k, w), a, b, k, w);
                 break;
             case 29:
-                int l = of(x.count(5) + 1) - 1;
+                int l = of(y.count(5) + 1) - 1;
                 same("leans", one(x.leans(a, l)), y.leans(a, l), a, l);
                 break;
             case 30:

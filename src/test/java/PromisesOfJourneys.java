@@ -24,21 +24,24 @@ final class PromisesOfJourneys {
             e.is("journey " + i, x.journey(i, 15, i == 0 ? 1 : 99), i);
             e.is("how many then", x.count(6), i + 1);
         }
-        e.promise(24, "NONE: there are 9, or something is not as told.");
+        e.promise(24, "NONE: there are 9,");
         e.nothing("the tenth", () -> Worlds.withJourneys(9), y -> y.journey(0, 1, 1), -1);
         e.is("the ninth", Worlds.withJourneys(8).journey(0, 1, 1), 8);
-        int[][] wrong = {{-1, 0, 1}, {4, 0, 1}, {MIN, 0, 1}, {MAX, 0, 1}, {0, -1, 1}, {0, 4, 1}, {0, MIN, 1}, {0, MAX, 1},
-            {0, 0, 1}, {3, 3, 1}, {-1, -1, 1}, {0, 1, 0}, {0, 1, 100}, {0, 1, -1}, {0, 1, MIN}, {0, 1, MAX}};
+        Calls back = Worlds.withJourneys(8);
+        back.mark(0);
+        back.journey(0, 1, 1);
+        e.is("there are 9", back.journey(0, 1, 1), -1);
+        back.back(0);
+        e.is("gone back, the number again", back.journey(0, 1, 1), 8);
+        e.promise(24, "or something is not as told.");
+        int[][] wrong = {{-1, 0, 1}, {4, 0, 1}, {MIN, 0, 1}, {MAX, 0, 1}, {0, -1, 1}, {0, 4, 1}, {0, MIN, 1},
+            {0, MAX, 1}, {0, 0, 1}, {3, 3, 1}, {-1, -1, 1}, {0, 1, 0}, {0, 1, 100}, {0, 1, -1}, {0, 1, MIN},
+            {0, 1, MAX}};
         for (int[] w : wrong) {
             e.nothing("journey" + Arrays.toString(w), Worlds::rich, y -> y.journey(w[0], w[1], w[2]), -1);
         }
         e.is("the first and the last", Worlds.rich().journey(0, 3, 99), 2);
         e.is("the last and the first", Worlds.rich().journey(3, 0, 1), 2);
-        Calls back = Worlds.withJourneys(3);
-        back.mark(0);
-        back.journey(0, 1, 1);
-        back.back(0);
-        e.is("gone back, the number again", back.journey(0, 1, 1), 3);
     }
 
     private static void tied(Edge e) {
@@ -81,7 +84,8 @@ final class PromisesOfJourneys {
         e.is("without journeys, tied", new Calls().plan(999, 1), 0);
         e.is("without journeys, weeks", new Calls().plan(999, 2), 0);
         e.promise(26, "NONE without these.");
-        int[][] wrong = {{-1, 0}, {1000, 0}, {MIN, 0}, {MAX, 0}, {0, -1}, {0, 3}, {0, MIN}, {0, MAX}, {-1, 1}, {1000, 2},
+        int[][] wrong = {{-1, 0}, {1000, 0}, {MIN, 0}, {MAX, 0}, {0, -1}, {0, 3}, {0, MIN}, {0, MAX}, {-1, 1},
+            {1000, 2},
             {999, 3}};
         for (int[] w : wrong) {
             e.nothing("plan" + Arrays.toString(w), Worlds::rich, x -> x.plan(w[0], w[1]), -1);
@@ -157,7 +161,8 @@ final class PromisesOfJourneys {
         e.is("of 61, before", struck.said(0, 1, 0, 1), -2);
         e.promise(28, "NONE without these.");
         int[][] wrong = {{0, 0, 0, 0}, {3, 3, 0, 0}, {-1, 0, 0, 0}, {0, -1, 0, 0}, {4, 0, 0, 0}, {0, 4, 0, 0},
-            {0, 1, -1, 0}, {0, 1, 10000, 0}, {0, 1, 0, -1}, {0, 1, 0, 2}, {MIN, 0, 0, 0}, {0, MAX, 0, 0}, {0, 1, MIN, 0},
+            {0, 1, -1, 0}, {0, 1, 10000, 0}, {0, 1, 0, -1}, {0, 1, 0, 2}, {MIN, 0, 0, 0}, {0, MAX, 0, 0},
+            {0, 1, MIN, 0},
             {0, 1, MAX, 1}, {0, 1, 0, MIN}, {0, 1, 0, MAX}};
         for (int[] w : wrong) {
             e.nothing("said" + Arrays.toString(w), Worlds::rich, x -> x.said(w[0], w[1], w[2], w[3]), -1);

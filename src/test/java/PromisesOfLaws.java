@@ -93,14 +93,36 @@ final class PromisesOfLaws {
         Calls none = Worlds.withTape(20);
         none.end(0);
         e.is("none: no law", none.law(), -3);
+        Calls blank = new Calls().fed("    lean 5");
+        blank.end(0);
+        e.is("none of blanks: no law", blank.law(), -3);
+        // what was cut off is as if it had never come
+        String text = "lean 10 if 1<=2 and not[pace>=99] ; lean 5";
+        for (int n = 0; n <= text.length(); n++) {
+            Calls cut = new Calls().fed(text);
+            cut.end(n);
+            e.is("its first " + n + " bytes", cut.law(), new Calls().law(text.substring(0, n)));
+        }
+        e.is("cut within a sign", new Calls().fed("lean 1 if 1<=2").end(12), 12);
+        Calls sign = new Calls().fed("lean 1 if 1<=2");
+        sign.end(12);
+        e.is("cut within a sign: the fault", sign.law(), -2 - (1 + 8 * 12));
     }
 
     private static void endTooMany(Edge e) {
-        e.promise(10, "NONE, and nothing happens, if it has not so many, or n is below 0.");
+        e.promise(10, "or n is below 0.");
         for (int bytes : new int[] {0, 1, 20, 399, 400}) {
-            for (int n : new int[] {MIN, -1, bytes + 1, bytes + 20, 401, MAX}) {
+            for (int n : new int[] {MIN, -20, -2, -1}) {
                 e.nothing("end(" + n + ") of " + bytes, () -> Worlds.withTape(bytes), x -> x.end(n), -1);
             }
+            e.is("end(0) of " + bytes, Worlds.withTape(bytes).end(0), 0);
+        }
+        e.promise(10, "NONE, and nothing happens, if it has not so many,");
+        for (int bytes : new int[] {0, 1, 20, 399, 400}) {
+            for (int n : new int[] {bytes + 1, bytes + 2, bytes + 20, 401, MAX}) {
+                e.nothing("end(" + n + ") of " + bytes, () -> Worlds.withTape(bytes), x -> x.end(n), -1);
+            }
+            e.is("end(" + bytes + ") of as many", Worlds.withTape(bytes).end(bytes), bytes);
         }
         Calls x = Worlds.withTape(20);
         x.end(9);
@@ -141,6 +163,21 @@ final class PromisesOfLaws {
             e.is("no law then", x.count(5), 9);
             e.is("the tape is empty then", x.count(7), 0);
             e.is("the next is the tenth", x.law("lean 1"), 9);
+        }
+        String[] open = {"lean 1 if not [[[1 = 1 and x", "lean 1 if [[1 < x", "lean 9 - x", "lean 9 * x",
+            "lean 9 if not x", "lean 9 if 1 = 1 and x", "lean 9 if 1 = 1 or x",
+            "lean 1 if " + "[".repeat(11), "lean 1" + "+1".repeat(60),
+            "lean 1" + ";lean 1".repeat(12), "lean 123456"};
+        String[] then = {"lean 5", "lean 5 if 1 = 1", "lean 5 if " + "[".repeat(10) + "1=1" + "]".repeat(10),
+            "lean 5 if " + "not ".repeat(10) + "1=1", "lean 5" + "+0".repeat(59), "lean 5" + ";lean 6".repeat(11)};
+        for (String fault : open) {
+            for (String text : then) {
+                Calls y = Worlds.oneOfEach();
+                y.sees(0, 0, 0, 5);
+                e.is("at fault: " + fault, y.law(fault) < -2, true);
+                e.is("behind it: " + text, y.law(text), 0);
+                e.is("behind it, given: " + text, y.gives(0, 0), 5);
+            }
         }
         // the laws that there are stay as they are
         Calls x = Worlds.withLaws(3);

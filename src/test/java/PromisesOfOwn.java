@@ -80,8 +80,8 @@ final class PromisesOfOwn {
         e.is("of one without any", x.left(1, 0, 9999), 0);
         e.nothing("left", Worlds::rich, y -> y.left(0, 1, 61), 10500L * 10500 + 1500L * 1500 + 7500L * 7500);
         e.promise(18, "NONE without these.");
-        int[][] wrong = {{-1, 0, 0}, {4, 0, 0}, {MIN, 0, 0}, {MAX, 0, 0}, {0, -1, 0}, {0, 2, 0}, {0, MIN, 0}, {0, MAX, 0},
-            {0, 0, -1}, {0, 0, 10000}, {0, 0, MIN}, {0, 0, MAX}};
+        int[][] wrong = {{-1, 0, 0}, {4, 0, 0}, {MIN, 0, 0}, {MAX, 0, 0}, {0, -1, 0}, {0, 2, 0}, {0, MIN, 0},
+            {0, MAX, 0}, {0, 0, -1}, {0, 0, 10000}, {0, 0, MIN}, {0, 0, MAX}};
         for (int[] w : wrong) {
             e.nothing("left" + Arrays.toString(w), Worlds::rich, y -> y.left(w[0], w[1], w[2]), -1);
         }
@@ -127,7 +127,8 @@ final class PromisesOfOwn {
     private static void bestWithout(Edge e) {
         e.promise(19, "-2 without these.");
         int[][] wrong = {{-1, 0, 0, 0}, {4, 0, 0, 0}, {MIN, 0, 0, 0}, {MAX, 0, 0, 0}, {0, -1, 0, 0}, {0, 10000, 0, 0},
-            {0, MIN, 0, 0}, {0, MAX, 0, 0}, {0, 0, -1, 0}, {0, 0, 901, 0}, {0, 0, MIN, 0}, {0, 0, MAX, 0}, {0, 0, 0, -1},
+            {0, MIN, 0, 0}, {0, MAX, 0, 0}, {0, 0, -1, 0}, {0, 0, 901, 0}, {0, 0, MIN, 0}, {0, 0, MAX, 0},
+            {0, 0, 0, -1},
             {0, 0, 0, 2}, {0, 0, 0, MIN}, {0, 0, 0, MAX}};
         for (int[] w : wrong) {
             e.nothing("best" + Arrays.toString(w), Worlds::rich, x -> x.best(w[0], w[1], w[2], w[3]), -2);

@@ -4,6 +4,11 @@ final class PromisesOfTheBook {
     private static final int MIN = Integer.MIN_VALUE;
     private static final int MAX = Integer.MAX_VALUE;
 
+    // What the rich world has not, of an observer, a night, a star, a way, a week.
+    private static final int[][] NOT_THESE = {{-1, 0, 0, 0, 0}, {4, 0, 0, 0, 0}, {0, -1, 0, 0, 0}, {0, 4, 0, 0, 0},
+        {0, 0, -1, 0, 0}, {0, 0, 2, 0, 0}, {0, 0, 0, -1, 0}, {0, 0, 0, 5, 0}, {0, 0, 0, 0, -1}, {0, 0, 0, 0, 10000},
+        {MIN, 0, 0, 0, 0}, {0, MAX, 0, 0, 0}, {0, 0, MAX, 0, 0}, {0, 0, 0, MIN, 0}, {0, 0, 0, 0, MAX}};
+
     private PromisesOfTheBook() {
     }
 
@@ -88,20 +93,24 @@ final class PromisesOfTheBook {
             e.is("observer " + i, x.observer(i == 0 ? -5000 : 9999), i);
             e.is("how many then", x.count(1), i + 1);
         }
-        e.promise(3, "NONE: there are 16, or no such WEEK.");
+        e.promise(3, "NONE: there are 16,");
         for (int born : new int[] {-5000, 0, 9999, 10000, -5001}) {
             e.nothing("the seventeenth, " + born, () -> Calls.sky(16, 1, 1).meet(0, 0, 0, 5, 1, 6),
                 y -> y.observer(born), -1);
         }
         e.is("the sixteenth", Worlds.withObservers(15).observer(0), 15);
-        for (int born : new int[] {MIN, -5001, 10000, MAX}) {
-            e.nothing("born in " + born, Worlds::rich, y -> y.observer(born), -1);
-        }
         Calls back = new Calls();
         back.mark(0);
         back.observers(16);
         back.back(0);
         e.is("gone back, there are none", back.observer(0), 0);
+        e.promise(3, "or no such WEEK.");
+        for (int born : new int[] {MIN, -5001, 10000, MAX}) {
+            e.nothing("born in " + born, Worlds::rich, y -> y.observer(born), -1);
+        }
+        for (int born : new int[] {-5000, -4999, -1, 0, 62, 9998, 9999}) {
+            e.is("born in " + born, Worlds.rich().observer(born), 4);
+        }
     }
 
     private static void star(Edge e) {
@@ -111,14 +120,17 @@ final class PromisesOfTheBook {
             e.is("star " + i, x.star(i % 10, 1 + i, i % 2), i);
             e.is("how many then", x.count(2), i + 1);
         }
-        e.promise(4, "NONE: there are 24, or something is not as told.");
+        e.promise(4, "NONE: there are 24,");
         e.nothing("the twenty-fifth", () -> Calls.sky(2, 24, 1).meet(0, 23, 0, 5, 1, 6), y -> y.star(0, 1, 0), -1);
         e.is("the twenty-fourth", Worlds.withStars(23).star(0, 1, 0), 23);
+        e.promise(4, "or something is not as told.");
         int[][] wrong = {{-1, 1, 0}, {10, 1, 0}, {MIN, 1, 0}, {MAX, 1, 0}, {0, 0, 0}, {0, 100, 0}, {0, -1, 0},
             {0, MIN, 0}, {0, MAX, 0}, {0, 1, -1}, {0, 1, 2}, {0, 1, MIN}, {0, 1, MAX}};
         for (int[] w : wrong) {
             e.nothing("star of " + w[0] + ", " + w[1] + ", " + w[2], Worlds::rich, y -> y.star(w[0], w[1], w[2]), -1);
         }
+        e.is("the least of all", Worlds.rich().star(0, 1, 0), 2);
+        e.is("the greatest of all", Worlds.rich().star(9, 99, 1), 2);
     }
 
     private static void night(Edge e) {
@@ -129,14 +141,16 @@ final class PromisesOfTheBook {
             e.is("night " + i, x.night(i % 4, i == 0 ? 9999 : i), i);
             e.is("how many then", x.count(3), i + 1);
         }
-        e.promise(5, "NONE: there are 80, or something is not as told.");
+        e.promise(5, "NONE: there are 80,");
         e.nothing("the eighty-first", () -> Calls.sky(2, 1, 80).meet(79, 0, 0, 5, 1, 6), y -> y.night(0, 0), -1);
         e.is("the eightieth", Worlds.withNights(79).night(0, 0), 79);
+        e.promise(5, "or something is not as told.");
         int[][] wrong = {{-1, 0}, {4, 0}, {MIN, 0}, {MAX, 0}, {0, -1}, {0, 62}, {0, 10000}, {0, MIN}, {0, MAX}};
         for (int[] w : wrong) {
             e.nothing("night of " + w[0] + ", " + w[1], Worlds::rich, y -> y.night(w[0], w[1]), -1);
         }
-        e.is("of now", Worlds.rich().night(0, 61), 4);
+        e.is("of the first house, now", Worlds.rich().night(0, 61), 4);
+        e.is("of the last house, in the first week", Worlds.rich().night(3, 0), 4);
     }
 
     private static void record(Edge e) {
@@ -190,13 +204,14 @@ final class PromisesOfTheBook {
                 e.is("the last of " + n, x.strike(n - 1), true);
             }
         }
-        e.promise(7, "false, and nothing happens, without it, or STRUCK already.");
+        e.promise(7, "false, and nothing happens, without it,");
         int records = Worlds.rich().count(4);
         for (int r : new int[] {MIN, -1, records, records + 1, 400, MAX}) {
             e.nothing("strike(" + r + ") of " + records, Worlds::rich, x -> x.strike(r) ? 1 : 0, 0);
         }
         e.nothing("strike(0) of none", Worlds::oneOfEach, x -> x.strike(0) ? 1 : 0, 0);
         e.nothing("strike(400) of 400", () -> Worlds.withRecords(400), x -> x.strike(400) ? 1 : 0, 0);
+        e.promise(7, "or STRUCK already.");
         // struck in weeks 3, 60 and 61
         for (int r : new int[] {2, 4, 3}) {
             e.nothing("strike(" + r + "), struck already", Worlds::rich, x -> x.strike(r) ? 1 : 0, 0);
@@ -215,6 +230,10 @@ final class PromisesOfTheBook {
         e.is("none", x.seen(1, 1, 1, 4, 0, 0), 0);
         x.record(1, 1, 4, 1, 4, 0, -1);
         e.is("one", x.seen(1, 1, 1, 4, 0, 0), 1);
+        for (int[] w : NOT_THESE) {
+            e.nothing("without, what 0", Worlds::rich, y -> y.seen(w[0], w[1], w[2], w[3], w[4], 0), -1);
+        }
+        e.is("with these, the last of each", Worlds.rich().seen(3, 3, 1, 4, 9999, 0), 0);
         e.promise(8, "1: REDUCED together (0 without RECORDS);");
         e.is("one", x.seen(1, 1, 1, 4, 0, 1), -20);
         e.is("without records", x.seen(1, 1, 1, 0, 0, 1), 0);
@@ -228,21 +247,20 @@ final class PromisesOfTheBook {
     }
 
     private static void seenWithoutThese(Edge e) {
-        e.promise(8, "-1000000000 without these, or for another what.");
-        int[][] wrong = {{-1, 0, 0, 0, 0}, {4, 0, 0, 0, 0}, {0, -1, 0, 0, 0}, {0, 4, 0, 0, 0}, {0, 0, -1, 0, 0},
-            {0, 0, 2, 0, 0}, {0, 0, 0, -1, 0}, {0, 0, 0, 5, 0}, {0, 0, 0, 0, -1}, {0, 0, 0, 0, 10000},
-            {MIN, 0, 0, 0, 0}, {0, MAX, 0, 0, 0}, {0, 0, MAX, 0, 0}, {0, 0, 0, MIN, 0}, {0, 0, 0, 0, MAX}};
-        for (int[] w : wrong) {
-            for (int what : new int[] {MIN, -1, 0, 1, 2, MAX}) {
-                e.is("without, what " + what, Worlds.rich().seen(w[0], w[1], w[2], w[3], w[4], what),
-                    what == 0 ? -1 : ANY);
+        e.promise(8, "-1000000000 without these,");
+        for (int[] w : NOT_THESE) {
+            for (int what : new int[] {MIN, -1, 2, MAX}) {
+                e.is("without, what " + what, Worlds.rich().seen(w[0], w[1], w[2], w[3], w[4], what), ANY);
             }
             e.nothing("seen without", Worlds::rich, x -> x.seen(w[0], w[1], w[2], w[3], w[4], 1), ANY);
         }
+        e.is("with these, the last of each", Worlds.rich().seen(3, 3, 1, 4, 9999, 1), 0);
+        e.promise(8, "or for another what.");
         for (int what : new int[] {MIN, -1, 2, MAX}) {
-            e.is("what " + what, Worlds.rich().seen(0, 0, 0, 0, 61, what), ANY);
+            e.nothing("what " + what, Worlds::rich, x -> x.seen(0, 0, 0, 0, 61, what), ANY);
         }
-        // 85 and 125 are reduced by 20 each, 100 and 103 are not 0's or struck: 100, 105, 105
-        e.nothing("seen", Worlds::rich, x -> x.seen(0, 0, 0, 0, 61, 1), 310);
+        // 100, and 85 and 125 reduced by 20 tenths
+        e.nothing("what 1", Worlds::rich, x -> x.seen(0, 0, 0, 0, 61, 1), 310);
+        e.nothing("what 0", Worlds::rich, x -> x.seen(0, 0, 0, 0, 61, 0), 3);
     }
 }

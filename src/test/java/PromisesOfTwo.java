@@ -116,8 +116,9 @@ final class PromisesOfTwo {
         e.promise(15, "NONE without it.");
         e.range("knots of two links", 0, 2, k -> chain().knot(2, 0, 0, k), -1);
         e.range("knots of no links", 0, 0, k -> chain().knot(3, 3, 0, k), 3, -1);
-        int[][] wrong = {{0, 3, 0, 0}, {3, 0, 0, 0}, {3, 0, 0, 1}, {-1, 0, 0, 0}, {0, -1, 0, 0}, {4, 0, 0, 0}, {0, 4, 0, 0},
-            {4, 4, 0, 0}, {0, 1, -1, 0}, {0, 1, 10000, 0}, {MIN, 0, 0, 0}, {0, MAX, 0, 0}, {0, 1, MIN, 0}, {0, 0, -1, 0},
+        int[][] wrong = {{0, 3, 0, 0}, {3, 0, 0, 0}, {3, 0, 0, 1}, {-1, 0, 0, 0}, {0, -1, 0, 0}, {4, 0, 0, 0},
+            {0, 4, 0, 0}, {4, 4, 0, 0}, {0, 1, -1, 0}, {0, 1, 10000, 0}, {MIN, 0, 0, 0}, {0, MAX, 0, 0}, {0, 1, MIN, 0},
+            {0, 0, -1, 0},
             {0, 1, 61, -1}, {0, 1, 61, 16}, {0, 1, 61, MIN}, {0, 1, 61, MAX}};
         for (int[] w : wrong) {
             refused(e, "knot" + java.util.Arrays.toString(w), x -> x.knot(w[0], w[1], w[2], w[3]), -1);
@@ -165,9 +166,19 @@ final class PromisesOfTwo {
     }
 
     private static void movedWithout(Edge e) {
-        e.promise(22, "-1000000000: nothing SEEN, or no ROPE;");
+        e.promise(22, "or no ROPE;");
         for (int what = 0; what < 2; what++) {
             e.is("no rope, what " + what, chain().moved(0, 0, 0, 0, 3, 0, what), ANY);
+            Calls x = chain();
+            x.clock(1);
+            x.strike(3);
+            e.is("its last link struck, what " + what, x.moved(0, 0, 0, 0, 2, 1, what), ANY);
+            e.is("before it was, what " + what, x.moved(0, 0, 0, 0, 2, 0, what), what == 0 ? 5000 : 1);
+            int asked = what;
+            e.nothing("no rope, what " + what, PromisesOfTwo::chain, y -> y.moved(0, 0, 0, 0, 3, 0, asked), ANY);
+        }
+        e.promise(22, "-1000000000: nothing SEEN,");
+        for (int what = 0; what < 2; what++) {
             e.is("nothing seen, what " + what, chain().moved(2, 0, 0, 0, 1, 0, what), ANY);
             e.is("nothing seen, to himself, what " + what, chain().moved(3, 0, 0, 0, 3, 0, what), ANY);
             e.is("nothing seen in that way, what " + what, chain().moved(0, 0, 0, 1, 1, 0, what), ANY);
@@ -214,7 +225,8 @@ final class PromisesOfTwo {
         e.nothing("longitude", PromisesOfTwo::houses, x -> x.longitude(0, 1, 0, 0), 7000);
         e.promise(23, "-2000000000 without these.");
         int[][] wrong = {{0, 0, 0, 0}, {3, 3, 0, 1}, {-1, 0, 0, 0}, {0, -1, 0, 0}, {4, 0, 0, 0}, {0, 4, 0, 0},
-            {0, 1, -1, 0}, {0, 1, 10000, 0}, {0, 1, 0, -1}, {0, 1, 0, 2}, {MIN, 0, 0, 0}, {0, MAX, 0, 0}, {0, 1, MIN, 1},
+            {0, 1, -1, 0}, {0, 1, 10000, 0}, {0, 1, 0, -1}, {0, 1, 0, 2}, {MIN, 0, 0, 0}, {0, MAX, 0, 0},
+            {0, 1, MIN, 1},
             {0, 1, MAX, 0}, {0, 1, 0, MIN}, {0, 1, 0, MAX}};
         for (int[] w : wrong) {
             refused(e, "longitude" + java.util.Arrays.toString(w), x -> x.longitude(w[0], w[1], w[2], w[3]), THESE);

@@ -16,7 +16,8 @@ final class TermFour {
     }
 
     private static void own(Edge e) {
-        e.term("IV", "OWN of an OBSERVER, as KNOWN in a WEEK: his feigned RECORDS (of a YEAR, that of the NIGHT, or all):");
+        e.term("IV", "OWN of an OBSERVER, as KNOWN in a WEEK: his feigned RECORDS "
+            + "(of a YEAR, that of the NIGHT, or all):");
         Calls x = new Calls().observers(2).stars(1, 10);
         x.clock(105);
         for (int week : new int[] {0, 51, 52, 103, 104}) {
@@ -56,15 +57,24 @@ final class TermFour {
     }
 
     private static void ownOf(Edge e) {
-        e.term("IV", "how many, LATE in thousandths by how many, downwards, the greatest LATE less the least.");
+        e.term("IV", "or all): how many,");
         e.is("of none, how many", late().own(0, -1, 0, 0), 0);
         e.is("of one, how many", late(7).own(0, -1, 0, 0), 1);
+        e.is("of two alike, how many", late(7, 7).own(0, -1, 0, 0), 2);
+        e.term("IV", "LATE in thousandths by how many, downwards,");
         e.is("of one", late(7).own(0, -1, 0, 1), 7000);
         e.is("of one below", late(-7).own(0, -1, 0, 1), -7000);
         e.is("of one at 0", late(0).own(0, -1, 0, 1), 0);
         e.is("of three above", late(1, 0, 0).own(0, -1, 0, 1), 333);
         e.is("of three below", late(-1, 0, 0).own(0, -1, 0, 1), -334);
         e.is("of two below", late(-1, 0).own(0, -1, 0, 1), -500);
+        Calls full = Worlds.oneOfEach();
+        for (int i = 0; i < 400; i++) {
+            full.feigns(0, 0, 0, 0, i == 0 ? 9998 : 9999);
+        }
+        e.is("of all records, how many", full.own(0, -1, 0, 0), 400);
+        e.is("of all records, downwards", full.own(0, -1, 0, 1), -9998998);
+        e.term("IV", "the greatest LATE less the least.");
         e.is("of one, greatest less least", late(7).own(0, -1, 0, 2), 0);
         e.is("of one below, greatest less least", late(-7).own(0, -1, 0, 2), 0);
         e.is("of two above, greatest less least", late(7, 9).own(0, -1, 0, 2), 2);
@@ -75,12 +85,6 @@ final class TermFour {
         e.is("as late as may be", far.own(0, -1, 0, 1), 9999000);
         far.feigns(0, 0, 0, 0, 9999);
         e.is("the greatest less the least as may be", far.own(0, -1, 0, 2), 19998);
-        Calls full = Worlds.oneOfEach();
-        for (int i = 0; i < 400; i++) {
-            full.feigns(0, 0, 0, 0, i == 0 ? 9998 : 9999);
-        }
-        e.is("of all records, how many", full.own(0, -1, 0, 0), 400);
-        e.is("of all records, downwards", full.own(0, -1, 0, 1), -9998998);
     }
 
     private static void left(Edge e) {
@@ -202,7 +206,7 @@ final class TermFour {
     }
 
     private static void threads(Edge e) {
-        e.term("IV", "SCATTER of a WAY: of each OBSERVER, NIGHT, STAR (by NIGHTS, STARS, OBSERVERS) seen so at two THREADS or more (RECORDS, n of them):");
+        e.term("IV", "seen so at two THREADS or more (RECORDS, n of them):");
         e.is("at no thread", seenAt().scatter(1, 0), -2);
         e.is("at one thread", seenAt(2, 100).scatter(1, 0), -2);
         e.is("at one thread twice", seenAt(2, 100, 2, 104).scatter(1, 0), -2);
@@ -216,6 +220,14 @@ final class TermFour {
         }
         // 100, 100, 101: 1000 * (3 * 30201 - 90601) / 3 = 666, by 2
         e.is("three records at two threads", seenAt(2, 100, 2, 100, 3, 111).scatter(1, 0), 333);
+        Calls y = seenAt(2, 100, 2, 104, 3, 110);
+        e.is("two records at one thread, one at another", y.scatter(1, 0) > 0, true);
+        y.clock(1);
+        y.strike(2);
+        e.is("the one at the other struck", y.scatter(1, 1), -2);
+        e.is("before it was", y.scatter(1, 0) > 0, true);
+        e.is("again from then", y.scatter(1, 1), -2);
+        e.term("IV", "SCATTER of a WAY: of each OBSERVER, NIGHT, STAR (by NIGHTS, STARS, OBSERVERS)");
         Calls x = seenAt(2, 100);
         x.record(0, 0, 3, 1, 1, 110, -1);
         e.is("another's thread", x.scatter(1, 0), -2);
@@ -235,7 +247,8 @@ final class TermFour {
     }
 
     private static void scatter(Edge e) {
-        e.term("IV", "1000 times (n times the squares of REDUCED together, less the square of REDUCED together) by n, downwards; all of these together, by all n less 1 together, downwards.");
+        e.term("IV", "1000 times (n times the squares of REDUCED together, less the square of REDUCED together) by n, "
+            + "downwards;");
         e.is("of two alike", seenAt(2, 100, 3, 110).scatter(1, 0), 0);
         e.is("of two", seenAt(2, 100, 3, 111).scatter(1, 0), 500);
         // 0, 0, 1: 2000 / 3 is 666, by 2; 0, 1, 1 the same
@@ -243,6 +256,13 @@ final class TermFour {
         Calls x = seenAt(4, 0, 4, 0, 3, 0);
         // -20, -20, -10: 1000 * (3 * 900 - 2500) / 3 = 66666, by 2
         e.is("below 0", x.scatter(1, 0), 33333);
+        Calls far = new Calls().observers(1).stars(1, 99).nights(1);
+        for (int i = 0; i < 400; i++) {
+            far.record(0, 0, i % 2 == 0 ? 0 : 4, 0, 4, i % 2 == 0 ? 9999 : 0, -1);
+        }
+        // 200 times 10197 and 200 times -198: 1000 * 100 * 10395 * 10395, by 399
+        e.is("as much as may be", far.scatter(4, 0), 100000L * 10395L * 10395L / 399L);
+        e.term("IV", "all of these together, by all n less 1 together, downwards.");
         x.record(1, 0, 2, 0, 1, 0, -1);
         x.record(1, 0, 3, 0, 1, 11, -1);
         // 66666 + 500 by 3
@@ -257,12 +277,12 @@ final class TermFour {
         e.is("of two observers", x.scatter(1, 0), 13633);
         x.record(1, 1, 2, 1, 1, 9999, -1);
         e.is("one at one thread beside them", x.scatter(1, 0), 13633);
-        Calls far = new Calls().observers(1).stars(1, 99).nights(1);
-        for (int i = 0; i < 400; i++) {
-            far.record(0, 0, i % 2 == 0 ? 0 : 4, 0, 4, i % 2 == 0 ? 9999 : 0, -1);
+        // twice 0, 0, 1: 666 and 666, each downwards, by 2 + 2
+        Calls twice = seenAt(0, 0, 1, 10, 2, 21);
+        for (int thread = 0; thread < 3; thread++) {
+            twice.record(1, 0, thread, 0, 1, thread == 2 ? 21 : 10 * thread, -1);
         }
-        // 200 times 10197 and 200 times -198: 1000 * 100 * 10395 * 10395, by 399
-        e.is("as much as may be", far.scatter(4, 0), 100000L * 10395L * 10395L / 399L);
+        e.is("two that are downwards themselves", twice.scatter(1, 0), 1332 / 4);
     }
 
     private static void finest(Edge e) {

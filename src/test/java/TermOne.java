@@ -14,7 +14,9 @@ final class TermOne {
         observersAsNumbers(e);
         stars(e);
         nights(e);
+        lastOfAll(e);
         recordNumbers(e);
+        recordsUnlike(e);
         recordOf(e);
         tenths(e);
         knownFromNow(e);
@@ -206,6 +208,68 @@ final class TermOne {
         e.is("gone back, a night of now", back.night(0, 5), 0);
     }
 
+    private static void lastOfAll(Edge e) {
+        e.term("I", "on a NIGHT, of a STAR, at a THREAD");
+        Calls x = Calls.sky(16, 24, 80);
+        x.record(79, 23, 4, 15, 4, 148, -1);
+        x.record(79, 22, 4, 15, 4, 150, -1);
+        x.record(79, 23, 4, 14, 4, 145, -1);
+        x.record(79, 23, 0, 15, 4, 104, -1);
+        e.is("the last of all, seen", x.seen(15, 79, 23, 4, 0, 1), 128 + 124);
+        e.is("the last of all, moved", x.moved(15, 79, 23, 4, 14, 0, 0), 125000);
+        e.is("the last two met", x.two(15, 14, 0, 1), 1000);
+        e.is("the last two are tied", x.tied(0), 1);
+        // 128 and 124
+        e.is("scatter of the last", x.scatter(4, 0), 8000);
+        e.is("later than the last but one", x.later(15, 14, 0, 0, 1), 0);
+        e.is("far from the last", x.far(15, 0), 16383);
+    }
+
+    /** Each record of another night, star or way than all others: as many of these as there may be. */
+    private static Calls unlike(int records) {
+        Calls x = new Calls().observers(2).stars(24, 10);
+        for (int house : new int[] {0, 0, 0, 1, 1}) {
+            x.night(house, 0);
+        }
+        int[] ways = {0, 1, 2, 4};
+        for (int i = 0; i < records; i++) {
+            x.record(i / 96, i / 4 % 24, 2, 0, ways[i % 4], i < 288 ? 5 : 12, -1);
+        }
+        return x;
+    }
+
+    private static void recordsUnlike(Edge e) {
+        e.term("I", "RECORDS 0 to 399");
+        Calls x = unlike(400);
+        e.is("how many", x.count(4), 400);
+        e.is("the first", x.seen(0, 0, 0, 0, 0, 1), 5);
+        e.is("the last", x.seen(0, 4, 3, 4, 0, 1), 12);
+        e.is("one behind the last", x.seen(0, 4, 4, 0, 0, 0), 0);
+        e.is("nobody met", x.two(0, 1, 0, 0), 0);
+        e.is("nobody is tied", x.tied(0), 0);
+        e.is("no rope", x.far(0, 0), 2);
+        e.is("no scatter", x.scatter(4, 0), -2);
+        e.is("nothing said", x.said(0, 1, 0, 1), 1);
+        e.is("no worlds", x.later(0, 1, 0, 0, 1), -2);
+        // three nights of the one house, 96 sights on the one night of the other and 16 on the next
+        e.is("longitude, how many", x.longitude(0, 1, 0, 1), 336);
+        e.is("longitude", x.longitude(0, 1, 0, 0), 7000);
+        lastRecords(e);
+    }
+
+    private static void lastRecords(Edge e) {
+        Calls x = unlike(398);
+        x.record(4, 3, 2, 0, 2, 12, -1);
+        x.record(4, 3, 2, 1, 2, 13, -1);
+        x.law("lean 1000");
+        x.leans(1, 0);
+        e.is("the last two met", x.two(1, 0, 0, 1), 1000);
+        e.is("worlds of the last two", x.later(1, 0, 3, 0, 50), 50);
+        e.is("worlds of the last two, the other way round", x.later(0, 1, 3, 0, 50), 0);
+        e.is("said of the last two", x.said(1, 0, 0, 0), 1);
+        e.is("a rope by the last two", x.rope(1, 0, 0, 1), 1000);
+    }
+
     private static void recordNumbers(Edge e) {
         e.term("I", "RECORDS 0 to 399: on a NIGHT, of a STAR");
         Calls x = Worlds.oneOfEach();
@@ -348,7 +412,8 @@ final class TermOne {
     }
 
     private static void seenOf(Edge e) {
-        e.term("I", "SEEN by an OBSERVER on a NIGHT of a STAR in a WAY: his RECORDS of these: how many, REDUCED together.");
+        e.term("I", "SEEN by an OBSERVER on a NIGHT of a STAR in a WAY: his RECORDS of these: how many, "
+            + "REDUCED together.");
         Calls x = Calls.sky(2, 2, 2);
         e.is("nothing, how many", x.seen(0, 0, 0, 0, 0, 0), 0);
         e.is("nothing, together", x.seen(0, 0, 0, 0, 0, 1), 0);

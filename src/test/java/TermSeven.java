@@ -108,7 +108,8 @@ final class TermSeven {
     }
 
     private static void inPlaceOfTheTenth(Edge e) {
-        e.term("VII", "in place of the TENTH is (THREAD - 2) times the pace, more what his LAW gives (0 without) by 1000, downwards, more a slip:");
+        e.term("VII", "in place of the TENTH is (THREAD - 2) times the pace, more what his LAW gives (0 without) "
+            + "by 1000, downwards, more a slip:");
         // far apart and at other threads: neither has a part in it
         Calls x = new Calls().observers(2).stars(1, 99).nights(1);
         x.record(0, 0, 0, 0, 0, 9999, -1);
@@ -188,8 +189,51 @@ final class TermSeven {
         for (int n : worlds) {
             e.is("of " + n + " worlds", leaning.later(0, 1, 3, 0, n), n >= 1 && n <= 50 ? n : -1);
         }
+        severalMeetings(e);
         for (int n = 1; n <= 50; n++) {
             e.is("of " + n + " worlds with slips", met().later(0, 1, 3, 9, n), inTurn(3, 9, n));
+        }
+    }
+
+    /** By nights and observers, the records in their order: in how many worlds 0 is above 1. */
+    private static int simulated(int[][] records, int nights, long seed, int slip, int n) {
+        long x = seed;
+        int above = 0;
+        for (int world = 0; world < n; world++) {
+            long[][] sums = new long[nights][4];
+            for (int[] r : records) {
+                x = (x * MULTIPLIER + 12345) % MODULUS;
+                long tenth = r[1] == 0 ? r[0] : 0;
+                sums[r[0]][r[1]] += tenth + x / 65536 % (2 * slip + 1) - slip;
+                sums[r[0]][2 + r[1]]++;
+            }
+            long together = 0;
+            for (long[] s : sums) {
+                together += Math.floorDiv(1000 * (s[0] * s[3] - s[1] * s[2]), s[2] * s[3]);
+            }
+            above += Math.floorDiv(together, (long) nights) > 0 ? 1 : 0;
+        }
+        return above;
+    }
+
+    private static void severalMeetings(Edge e) {
+        int[][] records = {{0, 0}, {1, 1}, {2, 0}, {0, 1}, {2, 1}, {1, 0}, {1, 0}, {2, 1}, {2, 1}, {0, 0}, {1, 1}};
+        Calls x = Calls.sky(2, 1, 0);
+        for (int week = 0; week < 3; week++) {
+            x.clock(week);
+            x.night(0, week);
+        }
+        for (int[] r : records) {
+            x.sees(r[1], r[0], 0, 5);
+        }
+        // on night n he leans n tenths
+        x.law("lean 1000 * week");
+        x.leans(0, 0);
+        for (int slip : new int[] {0, 1, 3, 9, 99}) {
+            for (int n : new int[] {1, 2, 49, 50}) {
+                e.is("three meetings, slip " + slip + ", " + n + " worlds", x.later(0, 1, 41, slip, n),
+                    simulated(records, 3, 41, slip, n));
+            }
         }
     }
 
@@ -243,7 +287,8 @@ final class TermSeven {
     }
 
     private static void kept(Edge e) {
-        e.term("VII", "NOW, OBSERVERS and their LAWS, STARS, NIGHTS, RECORDS (and which were STRUCK when), JOURNEYS, as they are; gone back to, these are as they were");
+        e.term("VII", "NOW, OBSERVERS and their LAWS, STARS, NIGHTS, RECORDS (and which were STRUCK when), JOURNEYS, "
+            + "as they are; gone back to, these are as they were");
         Calls x = Worlds.rich();
         x.mark(0);
         x.clock(90);
@@ -273,6 +318,7 @@ final class TermSeven {
         Calls once = Worlds.rich();
         once.mark(2);
         e.sameLater("going back twice", again, once);
+        keptApart(e);
         Calls empty = new Calls();
         empty.mark(0);
         empty.clock(7);
@@ -282,6 +328,36 @@ final class TermSeven {
         fresh.mark(0);
         e.sameLater("going back to nothing", empty, fresh);
         e.is("numbers begin again", struckTwice(), 1);
+    }
+
+    /** Another world is made in the place of the one, from nothing, and the one is gone back to. */
+    private static void keptApart(Edge e) {
+        Calls x = new Calls();
+        x.mark(2);
+        Worlds.enriched(x);
+        x.mark(0);
+        x.back(2);
+        for (int i = 0; i < 16; i++) {
+            x.observer(9000 + i);
+            x.star(9, 90 - i, 1);
+            x.night(3, 0);
+        }
+        for (int i = 0; i < 40; i++) {
+            x.record(15 - i % 16, 15 - i % 16, i % 5, 15 - i % 16, 4, 9000 + i, -1);
+            x.strike(i);
+        }
+        for (int i = 0; i < 16; i++) {
+            x.leans(i, 1);
+        }
+        for (int i = 0; i < 9; i++) {
+            x.journey(15 - i, i, 90 + i);
+        }
+        x.back(0);
+        Calls y = new Calls();
+        y.mark(2);
+        Worlds.enriched(y);
+        y.mark(0);
+        e.sameLater("another world in its place", x, y);
     }
 
     /** A record made anew behind a mark is not struck, though the one of its number was. */
@@ -324,7 +400,8 @@ final class TermSeven {
     }
 
     private static void calls(Edge e) {
-        e.of("Calls", "An object is used for at most 512 calls after it has been made; what later calls answer is free.");
+        e.of("Calls", "An object is used for at most 512 calls after it has been made; "
+            + "what later calls answer is free.");
         Calls x = met();
         int before = x.made();
         for (int i = before; i < Calls.MOST - 1; i++) {

@@ -65,6 +65,7 @@ final class TermThree {
         e.is("one of his struck", x.two(0, 1, 1, 0), 1);
         x.strike(5);
         e.is("all of his struck", x.two(0, 1, 1, 0), 0);
+        bothSeenInTurn(e);
         Calls most = Calls.sky(2, 5, 10);
         for (int i = 0; i < 200; i++) {
             int way = i % 4 == 3 ? 4 : i % 4;
@@ -73,6 +74,29 @@ final class TermThree {
         }
         e.is("as many as there may be", most.two(0, 1, 0, 0), 200);
         e.is("of so many, apart", most.two(0, 1, 0, 1), 1000);
+    }
+
+    private static void bothSeenInTurn(Edge e) {
+        Calls x = Calls.sky(2, 3, 2);
+        for (int observer = 0; observer < 2; observer++) {
+            for (int i = 0; i < 12; i++) {
+                x.record(i / 6, i / 2 % 3, 2, observer, i % 2, 5 + observer, -1);
+            }
+        }
+        e.is("all stars by the one, then by the other", x.two(1, 0, 0, 0), 12);
+        e.is("all of them alike", x.two(1, 0, 0, 2), 0);
+        // what was asked before has no part in what is asked then
+        Calls y = Calls.sky(2, 1, 2);
+        y.sees(0, 0, 0, 5);
+        y.sees(1, 1, 0, 5);
+        e.is("on unlike nights", y.two(0, 1, 0, 0), 0);
+        y.clock(1);
+        y.strike(0);
+        y.sees(0, 0, 0, 5);
+        e.is("on unlike nights, one struck and made anew", y.two(0, 1, 1, 0), 0);
+        y.sees(1, 0, 0, 5);
+        e.is("on one night, then", y.two(0, 1, 1, 0), 1);
+        e.is("on unlike nights, before", y.two(0, 1, 0, 0), 0);
     }
 
     /** Two who saw one star on one night, each of them all of his tenths. */
@@ -250,7 +274,8 @@ final class TermThree {
         // two links of 1500 against three of 1000: the first by observers would be the longer one
         Calls longer = Calls.sky(5, 2, 8);
         longer.meet(0, 0, 0, 100, 1, 101).meet(1, 0, 1, 100, 2, 101).meet(2, 0, 2, 100, 4, 101);
-        longer.meet(3, 0, 0, 100, 3, 100).meet(4, 0, 0, 101, 3, 100).meet(5, 0, 3, 100, 4, 100).meet(6, 0, 3, 101, 4, 100);
+        longer.meet(3, 0, 0, 100, 3, 100).meet(4, 0, 0, 101, 3, 100);
+        longer.meet(5, 0, 3, 100, 4, 100).meet(6, 0, 3, 101, 4, 100);
         e.is("two as wide as three: links", longer.rope(0, 4, 0, 0), 2);
         e.is("two as wide as three: width", longer.rope(0, 4, 0, 2), 3000);
         e.is("two as wide as three: through", longer.knot(0, 4, 0, 1), 3);

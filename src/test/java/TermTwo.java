@@ -253,6 +253,14 @@ final class TermTwo {
             fails(e, "lean " + word + word, 5, 0);
             fails(e, "lean " + Character.toUpperCase(word.charAt(0)) + word.substring(1), 5, 0);
         }
+        for (String word : words) {
+            misspelt(e, "lean ", word, "");
+        }
+        misspelt(e, "", "lean", " 1");
+        misspelt(e, "lean 1 ", "if", " 1=1");
+        misspelt(e, "lean 1 if 1=1 ", "or", " 1=1");
+        misspelt(e, "lean 1 if 1=1 ", "and", " 1=1");
+        misspelt(e, "lean 1 if ", "not", " 1=1");
         fails(e, "leanx 1", 0, 0);
         fails(e, "lea 1", 0, 0);
         fails(e, "leanpace", 0, 0);
@@ -265,6 +273,17 @@ final class TermTwo {
         fails(e, "lean 1 if 1=1 ands 1=1", 14, 0);
         fails(e, "lean 1 if 1=1 orr 1=1", 14, 0);
         fails(e, "lean 1 if 1=1 o 1=1", 14, 0);
+    }
+
+    /** Each letter of a word in turn is the one before it, the one behind it. */
+    private static void misspelt(Edge e, String before, String word, String behind) {
+        for (int i = 0; i < word.length(); i++) {
+            for (int by = -1; by <= 1; by += 2) {
+                char other = (char) (word.charAt(i) + by);
+                String wrong = word.substring(0, i) + other + word.substring(i + 1);
+                fails(e, before + wrong + behind, before.length(), 0);
+            }
+        }
     }
 
     /** The greatest star, thread, way, house of all. */
@@ -560,7 +579,8 @@ final class TermTwo {
     }
 
     private static void firstClause(Edge e) {
-        e.term("II", "What a LAW gives a RECORD: the SUM (64 bits, going round) of the first CLAUSE that has no TEST, or whose TEST holds");
+        e.term("II", "What a LAW gives a RECORD: the SUM (64 bits, going round) of the first CLAUSE that has no TEST, "
+            + "or whose TEST holds");
         gives(e, "lean 5;lean 6", 5);
         gives(e, "lean 5 if 1=2;lean 6;lean 7", 6);
         gives(e, "lean 5 if 1=2;lean 6 if 1=1;lean 7", 6);
@@ -608,6 +628,12 @@ final class TermTwo {
 
     private static void without(Edge e) {
         e.term("II", "0 without.");
+        Calls longer = Worlds.oneOfEach();
+        longer.sees(0, 0, 0, 5);
+        longer.law("lean 5 if 1 = 2; lean 6; lean 7");
+        longer.law("lean 8 if 1 = 2");
+        e.is("a law behind a longer one", longer.gives(1, 0), 0);
+        e.is("the longer one", longer.gives(0, 0), 6);
         gives(e, "lean 5 if 1=2", 0);
         gives(e, "lean 5 if 1=2" + times(";lean 6 if 2=1", 11), 0);
         gives(e, "lean 5 if not [1=1]", 0);

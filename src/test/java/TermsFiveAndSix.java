@@ -7,6 +7,8 @@ final class TermsFiveAndSix {
         moved(e);
         past(e);
         longitude(e);
+        longitudeOfNights(e);
+        longitudeOfMeans(e);
         longitudeWithout(e);
         longitudeDownwards(e);
         journeys(e);
@@ -18,25 +20,34 @@ final class TermsFiveAndSix {
     }
 
     private static void moved(Edge e) {
-        e.term("V", "MOVED to an OBSERVER z: what a SEEN (of an OBSERVER, NIGHT, STAR, WAY) says, its mean in thousandths, downwards, less the LEAN of the ROPE from him to z.");
+        e.term("V", "MOVED to an OBSERVER z: what a SEEN (of an OBSERVER, NIGHT, STAR, WAY) says,");
         Calls x = Calls.sky(3, 2, 3);
         x.meet(0, 0, 0, 100, 1, 104).meet(1, 0, 1, 100, 2, 101);
         x.record(2, 1, 4, 0, 4, 0, -1);
         x.record(2, 1, 4, 0, 4, 0, -1);
         x.record(2, 1, 4, 0, 4, 1, -1);
-        // -20, -20, -19
-        e.is("to himself, downwards", x.moved(0, 2, 1, 4, 0, 0, 0), -19667);
-        e.is("to one whom he met", x.moved(0, 2, 1, 4, 1, 0, 0), -19667 + 4000);
-        e.is("to one whom he never met", x.moved(0, 2, 1, 4, 2, 0, 0), -19667 + 5000);
-        e.is("the other way", x.moved(2, 1, 0, 0, 0, 0, 0), 101000 - 5000);
-        e.is("another way of seeing", x.moved(0, 2, 1, 0, 1, 0, 0), -1000000000);
         x.record(2, 1, 4, 0, 3, 30, 0);
-        e.is("a feigned one", x.moved(0, 2, 1, 3, 1, 0, 0), 14000);
+        e.is("to himself", x.moved(0, 0, 0, 0, 0, 0, 0), 100000);
+        e.is("another night", x.moved(0, 1, 0, 0, 0, 0, 0), -1000000000);
+        e.is("another star", x.moved(0, 0, 1, 0, 0, 0, 0), -1000000000);
+        e.is("another way", x.moved(0, 0, 0, 4, 0, 0, 0), -1000000000);
+        e.is("another observer", x.moved(2, 0, 0, 0, 0, 0, 0), -1000000000);
+        e.is("a feigned one", x.moved(0, 2, 1, 3, 0, 0, 0), 10000);
+        e.term("V", "its mean in thousandths, downwards,");
+        // -20, -20, -19
+        e.is("below 0", x.moved(0, 2, 1, 4, 0, 0, 0), -19667);
         Calls third = Calls.sky(2, 1, 1);
         third.sees(0, 0, 0, 5);
         third.sees(1, 0, 0, 5);
         third.sees(1, 0, 0, 5);
         third.sees(1, 0, 0, 6);
+        e.is("above 0", third.moved(1, 0, 0, 0, 1, 0, 0), 5333);
+        e.is("a whole one", third.moved(0, 0, 0, 0, 0, 0, 0), 5000);
+        e.term("V", "less the LEAN of the ROPE from him to z.");
+        e.is("to one whom he met", x.moved(0, 2, 1, 4, 1, 0, 0), -19667 + 4000);
+        e.is("to one whom he never met", x.moved(0, 2, 1, 4, 2, 0, 0), -19667 + 5000);
+        e.is("the other way", x.moved(2, 1, 0, 0, 0, 0, 0), 101000 - 5000);
+        e.is("a feigned one", x.moved(0, 2, 1, 3, 1, 0, 0), 14000);
         // the mean of 1 is 5333, downwards, his lean to 0 is 333; the lean of 0 to him is -334
         e.is("each downwards", third.moved(1, 0, 0, 0, 0, 0, 0), 5000);
         e.is("each downwards, the other way", third.moved(0, 0, 0, 0, 1, 0, 0), 5334);
@@ -86,7 +97,7 @@ final class TermsFiveAndSix {
     }
 
     private static void longitude(Edge e) {
-        e.term("V", "LONGITUDE of two HOUSES g, h (unlike): for each NIGHT of g, each NIGHT of h of the same WEEK, each STAR, each WAY (not feigned), each OBSERVER a with SEEN on the one and b on the other: b's mean less a's (each in thousandths, downwards), less the LEAN of the ROPE from b to a;");
+        e.term("V", "LONGITUDE of two HOUSES g, h (unlike):");
         for (int g = 0; g < 4; g++) {
             for (int h = 0; h < 4; h++) {
                 Calls x = houses();
@@ -96,39 +107,102 @@ final class TermsFiveAndSix {
                 e.is("of houses " + g + ", " + h, x.longitude(g, h, 6, 0), g == h ? -2000000000 : 57000);
             }
         }
+        e.term("V", "each STAR, each WAY (not feigned),");
         for (int way = 0; way < 5; way++) {
             Calls x = houses();
             x.record(0, 0, 2, 0, way, 100, way == 3 ? 0 : -1);
             x.record(1, 0, 2, 1, way, 160, way == 3 ? 0 : -1);
             e.is("in way " + way, x.longitude(0, 1, 6, 1), way == 3 ? 0 : 1);
+            x.record(0, 1, 2, 0, way, 100, way == 3 ? 0 : -1);
+            e.is("another star at the one, way " + way, x.longitude(0, 1, 6, 1), way == 3 ? 0 : 1);
+            x.record(1, 1, 2, 1, way, 100, way == 3 ? 0 : -1);
+            e.is("another star at both, way " + way, x.longitude(0, 1, 6, 1), way == 3 ? 0 : 2);
+            x.record(0, 0, 2, 0, (way + 1) % 3, 100, -1);
+            e.is("another way at the one, beside " + way, x.longitude(0, 1, 6, 1), way == 3 ? 0 : 2);
         }
+    }
+
+    private static void longitudeOfNights(Edge e) {
+        e.term("V", "for each NIGHT of g, each NIGHT of h of the same WEEK,");
         Calls x = houses();
         x.sees(1, 1, 0, 160);
         x.sees(0, 4, 0, 100);
         e.is("the week before", x.longitude(0, 1, 6, 1), 0);
         x.sees(0, 5, 0, 100);
         e.is("the week behind", x.longitude(0, 1, 6, 1), 0);
-        x.sees(0, 0, 1, 100);
-        e.is("another star", x.longitude(0, 1, 6, 1), 0);
-        x.record(0, 0, 2, 0, 1, 100, -1);
-        e.is("another way", x.longitude(0, 1, 6, 1), 0);
         x.sees(0, 0, 0, 100);
         e.is("the same week", x.longitude(0, 1, 6, 1), 1);
-        x.sees(0, 0, 0, 102);
-        // both are one SEEN, their mean 101
-        e.is("several records are one", x.longitude(0, 1, 6, 1), 1);
-        e.is("their mean counts", x.longitude(0, 1, 6, 0), 160000 - 101000 - 3000);
-        x.sees(0, 1, 0, 150);
-        // 0 and 1 met on that night, too: 3 and 10 below, 6500 together by 2; 0 with himself counts
-        e.is("himself on the other", x.longitude(0, 1, 6, 1), 2);
-        e.is("with himself", x.longitude(0, 1, 6, 0), Math.floorDiv(49000 + 59000 - 6500, 2));
         x.night(0, 5);
         x.sees(0, 7, 0, 100);
-        e.is("two nights of the one", x.longitude(0, 1, 6, 1), 4);
+        e.is("two nights of the one", x.longitude(0, 1, 6, 1), 2);
         x.night(1, 5);
-        x.sees(1, 8, 0, 100);
-        e.is("two nights of the other", x.longitude(0, 1, 6, 1), 6);
-        e.is("the other way round", x.longitude(1, 0, 6, 1), 6);
+        x.sees(1, 8, 0, 160);
+        e.is("two nights of the other", x.longitude(0, 1, 6, 1), 4);
+        e.is("the other way round", x.longitude(1, 0, 6, 1), 4);
+        e.is("all alike", x.longitude(0, 1, 6, 0), 57000);
+        e.term("V", "each OBSERVER a with SEEN on the one and b on the other:");
+        Calls y = houses();
+        y.sees(0, 0, 0, 100);
+        e.is("one alone", y.longitude(0, 1, 6, 1), 0);
+        y.sees(0, 0, 0, 102);
+        y.sees(1, 1, 0, 160);
+        e.is("several records are one", y.longitude(0, 1, 6, 1), 1);
+        y.sees(0, 1, 0, 150);
+        e.is("himself on the other, too", y.longitude(0, 1, 6, 1), 2);
+        y.sees(1, 0, 0, 107);
+        e.is("both on both", y.longitude(0, 1, 6, 1), 4);
+        y.sees(2, 1, 0, 150);
+        e.is("a third on the other", y.longitude(0, 1, 6, 1), 6);
+        y.strike(2);
+        e.is("all of his on the one struck but one", y.longitude(0, 1, 6, 1), 6);
+        y.strike(3);
+        e.is("all of his on the one struck", y.longitude(0, 1, 6, 1), 3);
+    }
+
+    private static void longitudeOfMeans(Edge e) {
+        e.term("V", "b's mean less a's (each in thousandths, downwards), less the LEAN of the ROPE from b to a;");
+        Calls x = houses();
+        x.sees(0, 0, 0, 100);
+        x.sees(0, 0, 0, 102);
+        x.sees(1, 1, 0, 160);
+        e.is("a mean of two", x.longitude(0, 1, 6, 0), 160000 - 101000 - 3000);
+        x.sees(0, 1, 0, 150);
+        // 0 and 1 met on that night, too: 3 and 10 below, 6500 together by 2; 0 with himself leans nothing
+        e.is("with himself", x.longitude(0, 1, 6, 0), Math.floorDiv(49000 + 59000 - 6500, 2));
+        Calls thirds = new Calls().observers(1).stars(1, 10);
+        thirds.night(0, 0);
+        thirds.night(1, 0);
+        thirds.sees(0, 0, 0, 10);
+        thirds.sees(0, 0, 0, 10);
+        thirds.sees(0, 0, 0, 11);
+        thirds.sees(0, 1, 0, 10);
+        thirds.sees(0, 1, 0, 11);
+        thirds.sees(0, 1, 0, 11);
+        // 10666 and 10333: each mean is downwards by itself
+        e.is("each mean downwards", thirds.longitude(0, 1, 0, 0), 333);
+        e.is("each mean downwards, the other way round", thirds.longitude(1, 0, 0, 0), -333);
+        // -20, -20, -19 at the one house: -19667, downwards; 0 at the other
+        Calls below = new Calls().observers(1).stars(1, 10);
+        below.night(0, 0);
+        below.night(1, 0);
+        below.record(0, 0, 4, 0, 0, 0, -1);
+        below.record(0, 0, 4, 0, 0, 0, -1);
+        below.record(0, 0, 4, 0, 0, 1, -1);
+        below.sees(0, 1, 0, 0);
+        e.is("a mean below 0", below.longitude(0, 1, 0, 0), 19667);
+        e.is("a mean below 0, the other way round", below.longitude(1, 0, 0, 0), -19667);
+        // a third of a tenth between two who met: 334 below, 333 above
+        Calls lean = new Calls().observers(2).stars(2, 10);
+        lean.night(0, 0);
+        lean.night(1, 0);
+        lean.sees(0, 0, 1, 10);
+        lean.sees(1, 0, 1, 10);
+        lean.sees(1, 0, 1, 10);
+        lean.sees(1, 0, 1, 11);
+        lean.sees(0, 0, 0, 50);
+        lean.sees(1, 1, 0, 50);
+        e.is("the lean from b to a", lean.longitude(0, 1, 0, 0), -333);
+        e.is("the lean from b to a, the other way round", lean.longitude(1, 0, 0, 0), 334);
     }
 
     private static void longitudeWithout(Edge e) {
@@ -166,45 +240,40 @@ final class TermsFiveAndSix {
         x.sees(0, 3, 0, 11);
         e.is("of three, above", x.longitude(0, 1, 0, 0), 333);
         e.is("of three, below", x.longitude(1, 0, 0, 0), -334);
-        Calls thirds = new Calls().observers(1).stars(1, 10);
-        thirds.night(0, 0);
-        thirds.night(1, 0);
-        thirds.sees(0, 0, 0, 10);
-        thirds.sees(0, 0, 0, 10);
-        thirds.sees(0, 0, 0, 11);
-        thirds.sees(0, 1, 0, 10);
-        thirds.sees(0, 1, 0, 11);
-        thirds.sees(0, 1, 0, 11);
-        // 10666 and 10333: each mean is downwards by itself
-        e.is("each mean downwards", thirds.longitude(0, 1, 0, 0), 333);
-        e.is("each mean downwards, the other way round", thirds.longitude(1, 0, 0, 0), -333);
     }
 
     private static void journeys(Edge e) {
-        e.term("VI", "JOURNEYS 0 to 8: would bring OBSERVERS a, b (unlike) together, for so many weeks (1 to 99).");
+        e.term("VI", "JOURNEYS 0 to 8:");
         Calls x = new Calls().observers(3);
         for (int i = 0; i < 9; i++) {
             e.is("journey " + i, x.journey(i % 3, (i + 1) % 3, 1), i);
         }
         e.is("the tenth", x.journey(0, 1, 1), -1);
         e.is("how many", x.count(6), 9);
+        e.term("VI", "would bring OBSERVERS a, b (unlike) together,");
         for (int a = 0; a < 3; a++) {
             for (int b = 0; b < 3; b++) {
                 e.is("of " + a + ", " + b, new Calls().observers(3).journey(a, b, 1), a == b ? -1 : 0);
             }
         }
-        e.range("weeks", 1, 99, weeks -> new Calls().observers(2).journey(0, 1, weeks), 0, -1);
         Calls one = new Calls().observers(2);
         one.journey(0, 1, 99);
         e.is("it would bring them together", one.tied(0), 0);
         e.is("it brings them together", one.tied(1), 1);
-        e.is("it lasts as told", one.plan(999, 2), 99);
         e.is("it is no meeting", one.two(0, 1, 0, 0), 0);
         e.is("nor a rope", one.rope(0, 1, 0, 0), -2);
+        e.term("VI", "for so many weeks (1 to 99).");
+        e.range("weeks", 1, 99, weeks -> new Calls().observers(2).journey(0, 1, weeks), 0, -1);
+        for (int weeks : Edge.about(1, 99)) {
+            Calls y = new Calls().observers(2);
+            y.journey(0, 1, weeks);
+            e.is("the weeks that it lasts, " + weeks, y.plan(999, 2), weeks >= 1 && weeks <= 99 ? weeks : 0);
+        }
     }
 
     private static void tied(Edge e) {
-        e.term("VI", "TIED: pairs of OBSERVERS between whom a row of links leads (MEETINGS KNOWN NOW, and JOURNEYS made).");
+        e.term("VI", "TIED: pairs of OBSERVERS between whom a row of links leads "
+            + "(MEETINGS KNOWN NOW, and JOURNEYS made).");
         e.is("of nobody", new Calls().tied(0), 0);
         e.is("of one", Worlds.withObservers(1).tied(0), 0);
         Calls x = Calls.sky(16, 1, 15);
@@ -225,6 +294,14 @@ final class TermsFiveAndSix {
         int[] want = {1, 3, 2, 4, 2, 6, 4, 10, 1, 3, 2, 4, 2, 6, 4, 10};
         for (int set = 0; set < 16; set++) {
             e.is("with the set " + set, y.tied(set), want[set]);
+        }
+        for (int n : new int[] {2, 3, 16}) {
+            Calls ends = new Calls().observers(n);
+            ends.journey(n - 1, 0, 1);
+            e.is("the last with the first of " + n, ends.tied(1), 1);
+            Calls turned = new Calls().observers(n);
+            turned.journey(0, n - 1, 1);
+            e.is("the first with the last of " + n, turned.tied(1), 1);
         }
         y.clock(4);
         y.strike(1);
@@ -298,33 +375,44 @@ final class TermsFiveAndSix {
     }
 
     private static void next(Edge e) {
-        e.term("VI", "NEXT: the pair a, b (a below b) not TIED, with whom brought together most would be TIED; of several the least a, then b.");
+        e.term("VI", "NEXT: the pair a, b (a below b) not TIED,");
         e.is("of nobody", new Calls().next(), -2);
         e.is("of one", Worlds.withObservers(1).next(), -2);
         e.is("of two", Worlds.withObservers(2).next(), 1);
-        e.is("of three, the least", Worlds.withObservers(3).next(), 1);
         e.is("of two who met", Calls.sky(2, 1, 1).meet(0, 0, 0, 5, 1, 5).next(), -2);
+        e.is("of two who met, the other first", Calls.sky(2, 1, 1).meet(0, 0, 1, 5, 0, 5).next(), -2);
         e.is("one and two who met", Calls.sky(3, 1, 1).meet(0, 0, 0, 5, 1, 5).next(), 2);
-        e.is("two who met and one before", Calls.sky(3, 1, 1).meet(0, 0, 1, 5, 2, 5).next(), 1);
-        e.is("two, and two who met", Calls.sky(4, 1, 1).meet(0, 0, 2, 5, 3, 5).next(), 2);
-        Calls pairs = Calls.sky(16, 1, 8);
-        pairs.meet(0, 0, 14, 5, 15, 5).meet(1, 0, 12, 5, 13, 5);
-        e.is("the last pairs", pairs.next(), 16 * 12 + 14);
-        pairs.meet(2, 0, 3, 5, 9, 5).meet(3, 0, 9, 5, 11, 5);
-        e.is("three and two", pairs.next(), 16 * 3 + 12);
         Calls row = Calls.sky(16, 1, 15);
         for (int i = 0; i < 14; i++) {
             row.meet(i, 0, i, 5, i + 1, 5);
         }
         e.is("all but the last", row.next(), 15);
         row.meet(14, 0, 14, 5, 15, 5);
-        e.is("all are tied", row.next(), -2);
+        e.is("all are tied, though not all have met", row.next(), -2);
         Calls known = Calls.sky(3, 1, 1).meet(0, 0, 0, 5, 1, 5);
         known.journey(0, 2, 1);
         e.is("a journey is not made", known.next(), 2);
         known.clock(1);
         known.strike(0);
         e.is("by what is known now", known.next(), 1);
+        e.term("VI", "with whom brought together most would be TIED;");
+        e.is("two, and two who met", Calls.sky(4, 1, 1).meet(0, 0, 2, 5, 3, 5).next(), 2);
+        Calls pairs = Calls.sky(16, 1, 8);
+        pairs.meet(0, 0, 14, 5, 15, 5).meet(1, 0, 12, 5, 13, 5);
+        e.is("the last pairs", pairs.next(), 16 * 12 + 14);
+        pairs.meet(2, 0, 3, 5, 9, 5).meet(3, 0, 9, 5, 11, 5);
+        e.is("three and two", pairs.next(), 16 * 3 + 12);
+        pairs.meet(4, 0, 13, 5, 10, 5).meet(5, 0, 10, 5, 8, 5);
+        e.is("four and three", pairs.next(), 16 * 3 + 8);
+        e.term("VI", "of several the least a, then b.");
+        for (int n = 2; n <= 16; n++) {
+            e.is("of " + n + " alike", Worlds.withObservers(n).next(), 1);
+        }
+        e.is("the least a of those who met", Calls.sky(3, 1, 1).meet(0, 0, 1, 5, 2, 5).next(), 1);
+        Calls twos = Calls.sky(7, 1, 3).meet(0, 0, 1, 5, 6, 5).meet(1, 0, 2, 5, 5, 5).meet(2, 0, 3, 5, 4, 5);
+        e.is("the least a, then the least b, of three twos", twos.next(), 16 + 2);
+        Calls crossed = Calls.sky(6, 1, 3).meet(0, 0, 0, 5, 3, 5).meet(1, 0, 1, 5, 2, 5).meet(2, 0, 4, 5, 5, 5);
+        e.is("the first two of six", crossed.next(), 1);
     }
 
     /** So many nights on which 0 is a tenth above 1, below him, and like him. */
@@ -336,8 +424,48 @@ final class TermsFiveAndSix {
         return x;
     }
 
+    /** So many records of 0 and of 1, and how many of these at 1 tenth, the others at 0. */
+    private static Calls shares(int manyA, int onesA, int manyB, int onesB) {
+        Calls x = Calls.sky(2, 1, 1);
+        for (int i = 0; i < manyA; i++) {
+            x.sees(0, 0, 0, i < onesA ? 1 : 0);
+        }
+        for (int i = 0; i < manyB; i++) {
+            x.sees(1, 0, 0, i < onesB ? 1 : 0);
+        }
+        return x;
+    }
+
+    private static void saidOfThousandths(Edge e) {
+        // 19 / 27 less 26 / 37 is 1 / 999: one thousandth, downwards
+        Calls above = shares(27, 19, 37, 26);
+        e.is("the difference is 1", above.two(0, 1, 0, 1), 1);
+        e.is("one thousandth above, those ways", above.said(0, 1, 0, 0), 1);
+        e.is("one thousandth above, all", above.said(0, 1, 0, 1), 2);
+        // 35 / 36 less 36 / 37 is 1 / 1332 below 0: downwards -1, the other way round 0
+        Calls below = shares(36, 35, 37, 36);
+        e.is("the difference is -1", below.two(0, 1, 0, 1), -1);
+        e.is("one thousandth below, those ways", below.said(0, 1, 0, 0), 2);
+        e.is("one thousandth below, all", below.said(0, 1, 0, 1), 2);
+        e.is("the other way round the difference is 0", below.two(1, 0, 0, 1), 0);
+        e.is("the other way round it counts not", below.said(1, 0, 0, 1), 1);
+    }
+
     private static void said(Edge e) {
-        e.term("VI", "SAID, by b of a: of their MEETINGS those with a DIFFERENCE that is not 0, n, of these h above 0: of 2^n ways those with h or more heads.");
+        e.term("VI", "SAID, by b of a: of their MEETINGS those with a DIFFERENCE that is not 0, n,");
+        e.is("no meetings", heads(0, 0, 0).said(0, 1, 0, 1), 1);
+        e.is("one that is 0", heads(0, 0, 1).said(0, 1, 0, 1), 1);
+        e.is("one above", heads(1, 0, 0).said(0, 1, 0, 1), 2);
+        e.is("one below", heads(0, 1, 0).said(0, 1, 0, 1), 2);
+        e.is("one of each", heads(1, 1, 1).said(0, 1, 0, 1), 4);
+        saidOfThousandths(e);
+        e.term("VI", "of these h above 0:");
+        e.is("one above, by the other of him", heads(1, 0, 0).said(0, 1, 0, 0), 1);
+        e.is("one above, by him of the other", heads(1, 0, 0).said(1, 0, 0, 0), 2);
+        e.is("three above, one below", heads(3, 1, 2).said(0, 1, 0, 0), 5);
+        e.is("three above, one below, the other way round", heads(3, 1, 2).said(1, 0, 0, 0), 15);
+        e.is("those that are 0 are not above", heads(0, 2, 5).said(0, 1, 0, 0), 4);
+        e.term("VI", "of 2^n ways those with h or more heads.");
         int[][] tosses = {{0, 0, 0, 1, 1}, {0, 0, 5, 1, 1}, {1, 0, 0, 1, 2}, {0, 1, 0, 2, 2}, {2, 0, 0, 1, 4},
             {1, 1, 0, 3, 4}, {0, 2, 0, 4, 4}, {3, 1, 2, 5, 16}, {1, 3, 2, 15, 16}, {2, 2, 2, 11, 16}};
         for (int[] t : tosses) {
@@ -345,7 +473,10 @@ final class TermsFiveAndSix {
             e.is(t[0] + " above, " + t[1] + " below", x.said(0, 1, 0, 0), t[3]);
             e.is("all ways of " + t[0] + " above, " + t[1] + " below", x.said(0, 1, 0, 1), t[4]);
         }
-        e.is("the other way round", heads(3, 1, 2).said(1, 0, 0, 0), 15);
+        saidOfSixty(e);
+    }
+
+    private static void saidOfSixty(Edge e) {
         long most = 1L << 60;
         e.is("sixty, none above", heads(0, 60, 0).said(0, 1, 0, 0), most);
         e.is("sixty, one above", heads(1, 59, 0).said(0, 1, 0, 0), most - 1);

@@ -14,7 +14,12 @@ final class Worlds {
 
     /** Something of everything: meetings, feigned ones, struck ones, laws, journeys, marks 1 and 3, a tape. */
     static Calls rich() {
-        Calls x = Calls.sky(4, 2, 2);
+        return enriched(new Calls());
+    }
+
+    /** The same on an object that has nothing yet. */
+    static Calls enriched(Calls x) {
+        x.observers(4).stars(2, 10).nights(2);
         x.night(1, 0);
         x.law("lean 1000 * thread if bright = 0; lean 7");
         x.law("lean 0 - 2500");
