@@ -82,7 +82,7 @@ public final class EachLater {
     private final long[] lefts = new long[MAX_LAWS];
     private final Reader reader = new Reader();
     private final Scale scale = new Scale();
-    private final Cells cells = new Cells();
+    private final Sights sights = new Sights();
     private final Meetings meetings = new Meetings();
     private final Ropes ropes = new Ropes();
     private final Bonds bonds = new Bonds();
@@ -306,19 +306,19 @@ public final class EachLater {
         if (!isWithin(way, 0, LAST_WAY) || !isWeek(known)) {
             return NONE;
         }
-        cells.gather(book, known);
-        return cells.scatterOf(way);
+        sights.gather(book, known);
+        return sights.scatterOf(way);
     }
 
     public int finest(int known) {
         if (!isWeek(known)) {
             return NONE;
         }
-        cells.gather(book, known);
+        sights.gather(book, known);
         int finest = NO_ANSWER;
         long least = 0;
         for (int way = 0; way <= LAST_WAY; way++) {
-            long scatter = cells.scatterOf(way);
+            long scatter = sights.scatterOf(way);
             if (scatter != NO_ANSWER && (finest == NO_ANSWER || scatter < least)) {
                 finest = way;
                 least = scatter;
@@ -410,12 +410,12 @@ public final class EachLater {
         if (!isPair(a, b) || !isWeek(known) || !isWithin(part, 0, 1)) {
             return NONE;
         }
-        cells.gather(book, known);
-        int unlike = cells.differences(a, b, false);
+        sights.gather(book, known);
+        int unlike = sights.differences(a, b, false);
         if (unlike > MAX_HEADS) {
             return NO_ANSWER;
         }
-        return part == 1 ? 1L << unlike : waysWithHeads(unlike, cells.differences(a, b, true));
+        return part == 1 ? 1L << unlike : waysWithHeads(unlike, sights.differences(a, b, true));
     }
 
     public boolean leans(int observer, int law) {
@@ -430,10 +430,10 @@ public final class EachLater {
         if (!isPair(a, b) || seed < 0 || !isWithin(slip, 0, 99) || !isWithin(n, 1, 50)) {
             return NONE;
         }
-        cells.gather(book, book.now);
-        worlds.begin(cells, a, b);
+        sights.gather(book, book.now);
+        worlds.begin(sights, a, b);
         for (int i = 0; i < book.records.size; i++) {
-            worlds.take(i, book.records.at(i, OF_OBSERVER), ownLeanTenths(i));
+            worlds.take(i, ownLeanTenths(i));
         }
         return worlds.areMet() ? worlds.draw(seed, slip, n) : NO_ANSWER;
     }
@@ -545,13 +545,13 @@ public final class EachLater {
     }
 
     private void measure(int known) {
-        cells.gather(book, known);
-        meetings.measure(cells);
+        sights.gather(book, known);
+        meetings.measure(sights);
     }
 
     private void tie(int goal, int known) {
-        cells.gather(book, known);
-        meetings.measure(cells);
+        sights.gather(book, known);
+        meetings.measure(sights);
         ropes.lead(meetings, book.observers.size, goal);
     }
 
@@ -593,29 +593,25 @@ public final class EachLater {
         tally.clear();
         for (int a = 0; a < book.observers.size; a++) {
             ropes.lead(meetings, book.observers.size, a);
-            for (int cell = 0; cell < cells.size; cell++) {
-                if (cells.many(cell, a) > 0 && isCellOfHouse(cell, g)) {
-                    tallyAcross(cell, a, h);
+            for (int i = 0; i < sights.size; i++) {
+                if (sights.isBy(i, a) && isOfHouse(i, g)) {
+                    tallyAcross(i, h);
                 }
             }
         }
     }
 
-    private boolean isCellOfHouse(int cell, int house) {
-        return cells.way[cell] != FEIGNED && book.nights.at(cells.night[cell], HOUSE) == house;
+    private boolean isOfHouse(int sight, int house) {
+        return !sights.isFeigned(sight) && book.nights.at(sights.night[sight], HOUSE) == house;
     }
 
-    private void tallyAcross(int cell, int a, int house) {
-        int week = book.nights.at(cells.night[cell], WEEK);
-        for (int i = 0; i < cells.size; i++) {
-            boolean alike = cells.star[i] == cells.star[cell] && cells.way[i] == cells.way[cell];
-            if (!alike || !isCellOfHouse(i, house) || book.nights.at(cells.night[i], WEEK) != week) {
-                continue;
-            }
-            for (int b = 0; b < book.observers.size; b++) {
-                if (cells.many(i, b) > 0 && ropes.reach(b)) {
-                    tally.add(cells.mean(i, b) - cells.mean(cell, a) - ropes.lean(b));
-                }
+    private void tallyAcross(int sight, int house) {
+        int week = book.nights.at(sights.night[sight], WEEK);
+        for (int i = 0; i < sights.size; i++) {
+            boolean alike = sights.star[i] == sights.star[sight] && sights.way[i] == sights.way[sight];
+            int b = sights.observer[i];
+            if (alike && isOfHouse(i, house) && book.nights.at(sights.night[i], WEEK) == week && ropes.reach(b)) {
+                tally.add(sights.mean(i) - sights.mean(sight) - ropes.lean(b));
             }
         }
     }
@@ -1347,21 +1343,24 @@ public final class EachLater {
         }
     }
 
-    /** What was SEEN, as KNOWN in a WEEK: a cell for each NIGHT, STAR and WAY, in it a place for each OBSERVER. */
-    private static final class Cells {
+    /** What was SEEN, as KNOWN in a WEEK: a sight for each NIGHT, STAR, WAY and OBSERVER. */
+    private static final class Sights {
         private int size = 0;
-        // The cells of a night hang one on the other, so that a record finds its own without a search of all.
+        // The first sights of a night's stars and ways hang one on the other, so that a record finds its own soon.
         private final int[] newest = new int[MAX_NIGHTS];
         private final int[] older = new int[MAX_RECORDS];
+        // The sights of one night, star and way stand in a ring.
+        private final int[] beside = new int[MAX_RECORDS];
         private final int[] night = new int[MAX_RECORDS];
         private final int[] star = new int[MAX_RECORDS];
         private final int[] way = new int[MAX_RECORDS];
-        private final int[] cellOf = new int[MAX_RECORDS];
-        private final int[] records = new int[MAX_RECORDS * MAX_OBSERVERS];
+        private final int[] observer = new int[MAX_RECORDS];
+        private final int[] records = new int[MAX_RECORDS];
         // The THREADS at which it was seen, as bits.
-        private final int[] threads = new int[MAX_RECORDS * MAX_OBSERVERS];
-        private final int[] reduced = new int[MAX_RECORDS * MAX_OBSERVERS];
-        private final long[] squares = new long[MAX_RECORDS * MAX_OBSERVERS];
+        private final int[] threads = new int[MAX_RECORDS];
+        private final int[] reduced = new int[MAX_RECORDS];
+        private final long[] squares = new long[MAX_RECORDS];
+        private final int[] sightOf = new int[MAX_RECORDS];
 
         void gather(Book book, int week) {
             size = 0;
@@ -1369,7 +1368,7 @@ public final class EachLater {
                 newest[i] = NONE;
             }
             for (int i = 0; i < book.records.size && i < MAX_RECORDS; i++) {
-                cellOf[i] = NONE;
+                sightOf[i] = NONE;
                 if (book.isKnown(i, week)) {
                     enter(book, i);
                 }
@@ -1380,92 +1379,121 @@ public final class EachLater {
             int onNight = book.records.at(record, OF_NIGHT);
             int ofStar = book.records.at(record, OF_STAR);
             int inWay = book.records.at(record, WAY);
-            int cell = find(onNight, ofStar, inWay);
-            if (cell == NONE) {
-                cell = open(onNight, ofStar, inWay);
+            int by = book.records.at(record, OF_OBSERVER);
+            int first = find(onNight, ofStar, inWay);
+            int sight = ringed(first, by);
+            if (sight == NONE) {
+                sight = open(onNight, ofStar, inWay, by);
+                join(sight, first);
             }
-            int place = place(cell, book.records.at(record, OF_OBSERVER));
-            if (place == NONE) {
-                return;
+            sightOf[record] = sight;
+            if (has(sight)) {
+                long number = book.reduced(record);
+                records[sight]++;
+                threads[sight] |= 1 << book.records.at(record, THREAD);
+                reduced[sight] += (int) number;
+                squares[sight] += number * number;
             }
-            cellOf[record] = cell;
-            long number = book.reduced(record);
-            records[place]++;
-            threads[place] |= 1 << book.records.at(record, THREAD);
-            reduced[place] += (int) number;
-            squares[place] += number * number;
+        }
+
+        boolean has(int sight) {
+            return sight >= 0 && sight < size;
         }
 
         private int find(int onNight, int ofStar, int inWay) {
-            int cell = isWithin(onNight, 0, MAX_NIGHTS - 1) ? newest[onNight] : NONE;
-            for (int i = 0; i < size && isWithin(cell, 0, size - 1); i++) {
-                if (star[cell] == ofStar && way[cell] == inWay) {
-                    return cell;
+            int sight = isWithin(onNight, 0, MAX_NIGHTS - 1) ? newest[onNight] : NONE;
+            for (int i = 0; i < size && has(sight); i++) {
+                if (star[sight] == ofStar && way[sight] == inWay) {
+                    return sight;
                 }
-                cell = older[cell];
+                sight = older[sight];
             }
             return NONE;
         }
 
-        private int open(int onNight, int ofStar, int inWay) {
-            if (size >= MAX_RECORDS || !isWithin(onNight, 0, MAX_NIGHTS - 1)) {
+        /** The sight of an OBSERVER in the ring of a sight, NONE without it. */
+        private int ringed(int sight, int by) {
+            int at = sight;
+            for (int i = 0; i < size && has(at); i++) {
+                if (observer[at] == by) {
+                    return at;
+                }
+                at = beside[at] == sight ? NONE : beside[at];
+            }
+            return NONE;
+        }
+
+        private int open(int onNight, int ofStar, int inWay, int by) {
+            if (size >= MAX_RECORDS) {
                 return NONE;
             }
-            int cell = size;
+            int sight = size;
             size++;
-            older[cell] = newest[onNight];
-            newest[onNight] = cell;
-            night[cell] = onNight;
-            star[cell] = ofStar;
-            way[cell] = inWay;
-            for (int i = cell * MAX_OBSERVERS; i < (cell + 1) * MAX_OBSERVERS; i++) {
-                records[i] = 0;
-                threads[i] = 0;
-                reduced[i] = 0;
-                squares[i] = 0;
+            older[sight] = NONE;
+            beside[sight] = sight;
+            night[sight] = onNight;
+            star[sight] = ofStar;
+            way[sight] = inWay;
+            observer[sight] = by;
+            records[sight] = 0;
+            threads[sight] = 0;
+            reduced[sight] = 0;
+            squares[sight] = 0;
+            return sight;
+        }
+
+        /** Puts a new sight into the ring of the first one, or, without it, on its night. */
+        private void join(int sight, int first) {
+            if (!has(sight)) {
+                return;
             }
-            return cell;
+            if (has(first)) {
+                beside[sight] = beside[first];
+                beside[first] = sight;
+            } else if (isWithin(night[sight], 0, MAX_NIGHTS - 1)) {
+                older[sight] = newest[night[sight]];
+                newest[night[sight]] = sight;
+            }
         }
 
-        private int place(int cell, int observer) {
-            boolean there = cell >= 0 && cell < size && observer >= 0 && observer < MAX_OBSERVERS;
-            return there ? cell * MAX_OBSERVERS + observer : NONE;
+        long mean(int sight) {
+            boolean some = has(sight) && records[sight] > 0;
+            return some ? Math.floorDiv(1000L * reduced[sight], (long) records[sight]) : 0;
         }
 
-        int many(int cell, int observer) {
-            int place = place(cell, observer);
-            return place == NONE ? 0 : records[place];
+        boolean isBy(int sight, int by) {
+            return has(sight) && observer[sight] == by;
         }
 
-        int together(int cell, int observer) {
-            int place = place(cell, observer);
-            return place == NONE ? 0 : reduced[place];
+        boolean isFeigned(int sight) {
+            return has(sight) && way[sight] == FEIGNED;
         }
 
-        long mean(int cell, int observer) {
-            int many = many(cell, observer);
-            return many == 0 ? 0 : Math.floorDiv(1000L * together(cell, observer), (long) many);
+        /** The sight of an OBSERVER that makes a MEETING with this one, NONE without it. */
+        int met(int sight, int by) {
+            return isFeigned(sight) ? NONE : ringed(sight, by);
         }
 
-        boolean isMeeting(int cell, int a, int b) {
-            return isWithin(cell, 0, size - 1) && way[cell] != FEIGNED && many(cell, a) > 0 && many(cell, b) > 0;
+        /** The DIFFERENCE of two sights, were these their REDUCED together. */
+        long lessMean(int one, long ofOne, int other, long ofOther) {
+            if (!has(one) || !has(other)) {
+                return 0;
+            }
+            long both = (long) records[one] * records[other];
+            return both == 0 ? 0 : Math.floorDiv(1000 * (ofOne * records[other] - ofOther * records[one]), both);
         }
 
-        long difference(int cell, int a, int b) {
-            return lessMean(together(cell, a), many(cell, a), together(cell, b), many(cell, b));
-        }
-
-        static long lessMean(long ofA, long manyA, long ofB, long manyB) {
-            long both = manyA * manyB;
-            return both == 0 ? 0 : Math.floorDiv(1000 * (ofA * manyB - ofB * manyA), both);
+        long difference(int one, int other) {
+            return has(one) && has(other) ? lessMean(one, reduced[one], other, reduced[other]) : 0;
         }
 
         /** How many DIFFERENCES are not 0, or, of these, above it. */
         int differences(int a, int b, boolean above) {
             int found = 0;
             for (int i = 0; i < size; i++) {
-                if (isMeeting(i, a, b)) {
-                    long apart = difference(i, a, b);
+                int other = isBy(i, a) ? met(i, b) : NONE;
+                if (other != NONE) {
+                    long apart = difference(i, other);
                     found += apart > 0 || apart < 0 && !above ? 1 : 0;
                 }
             }
@@ -1475,8 +1503,8 @@ public final class EachLater {
         long scatterOf(int inWay) {
             long together = 0;
             long free = 0;
-            for (int i = 0; i < size * MAX_OBSERVERS; i++) {
-                if (Integer.bitCount(threads[i]) >= 2 && way[i / MAX_OBSERVERS] == inWay) {
+            for (int i = 0; i < size; i++) {
+                if (Integer.bitCount(threads[i]) >= 2 && way[i] == inWay) {
                     long n = Math.max(1, records[i]);
                     long spread = n * squares[i] - (long) reduced[i] * reduced[i];
                     together += Math.floorDiv(1000 * spread, n);
@@ -1503,27 +1531,22 @@ public final class EachLater {
             return there ? tallies[a * MAX_OBSERVERS + b] : nothing;
         }
 
-        void measure(Cells cells) {
+        void measure(Sights sights) {
             for (int i = 0; i < tallies.length; i++) {
                 tallies[i].clear();
             }
-            for (int cell = 0; cell < cells.size; cell++) {
-                if (cells.way[cell] != FEIGNED) {
-                    measureCell(cells, cell);
+            for (int i = 0; i < sights.size; i++) {
+                if (!sights.isFeigned(i)) {
+                    measureRing(sights, i);
                 }
             }
         }
 
-        private void measureCell(Cells cells, int cell) {
-            for (int a = 0; a < MAX_OBSERVERS; a++) {
-                if (cells.many(cell, a) == 0) {
-                    continue;
-                }
-                for (int b = 0; b < MAX_OBSERVERS; b++) {
-                    if (b != a && cells.many(cell, b) > 0) {
-                        of(a, b).add(cells.difference(cell, a, b));
-                    }
-                }
+        private void measureRing(Sights sights, int sight) {
+            int other = sights.beside[sight];
+            for (int i = 0; i < sights.size && other != sight && sights.has(other); i++) {
+                of(sights.observer[sight], sights.observer[other]).add(sights.difference(sight, other));
+                other = sights.beside[other];
             }
         }
 
@@ -1691,31 +1714,33 @@ public final class EachLater {
 
     /** WORLDS of two OBSERVERS: the RECORDS of their MEETINGS, drawn anew. */
     private static final class Worlds {
-        private Cells cells = null;
+        private Sights sights = null;
         private int a = NONE;
         private int b = NONE;
         private int taken = 0;
         private long x = 0;
-        // Where a record's number goes: twice its cell for a, one more for b.
+        // The sight to which a record's number goes.
         private final int[] slots = new int[MAX_RECORDS];
         private final int[] leanings = new int[MAX_RECORDS];
-        private final long[] sums = new long[2 * MAX_RECORDS];
+        private final long[] sums = new long[MAX_RECORDS];
         private final Tally apart = new Tally();
 
-        void begin(Cells gathered, int one, int other) {
-            cells = gathered;
+        void begin(Sights gathered, int one, int other) {
+            sights = gathered;
             a = one;
             b = other;
             taken = 0;
         }
 
-        void take(int record, int observer, int lean) {
-            if (cells == null || taken >= MAX_RECORDS || !isWithin(record, 0, MAX_RECORDS - 1)) {
+        void take(int record, int lean) {
+            if (sights == null || taken >= MAX_RECORDS || !isWithin(record, 0, MAX_RECORDS - 1)) {
                 return;
             }
-            int cell = cells.cellOf[record];
-            if ((observer == a || observer == b) && cells.isMeeting(cell, a, b)) {
-                slots[taken] = 2 * cell + (observer == a ? 0 : 1);
+            int sight = sights.sightOf[record];
+            boolean met = sights.isBy(sight, a) && sights.met(sight, b) != NONE
+                || sights.isBy(sight, b) && sights.met(sight, a) != NONE;
+            if (met) {
+                slots[taken] = sight;
                 leanings[taken] = lean;
                 taken++;
             }
@@ -1748,9 +1773,10 @@ public final class EachLater {
 
         private long apartMean() {
             apart.clear();
-            for (int i = 0; cells != null && i < cells.size; i++) {
-                if (cells.isMeeting(i, a, b)) {
-                    apart.add(Cells.lessMean(sums[2 * i], cells.many(i, a), sums[2 * i + 1], cells.many(i, b)));
+            for (int i = 0; sights != null && i < sights.size; i++) {
+                int other = sights.isBy(i, a) ? sights.met(i, b) : NONE;
+                if (other != NONE) {
+                    apart.add(sights.lessMean(i, sums[i], other, sums[other]));
                 }
             }
             return apart.mean();
