@@ -1429,7 +1429,6 @@ public final class EachLater {
             }
             int sight = size;
             size++;
-            older[sight] = NONE;
             beside[sight] = sight;
             night[sight] = onNight;
             star[sight] = ofStar;
